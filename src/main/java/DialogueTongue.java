@@ -29,10 +29,18 @@ public final class DialogueTongue {
     private static final int MOST_TOLD = 32768;
     /** Far above what 32 scripts within one another can hold in words that are not yet done. */
     private static final int MOST_BYTES = 2300000;
+    private static final int FIRST_BYTES = 16384;
+    /** More than one turn of a task can add. */
+    private static final int TURN_BYTES = 8192;
+    private static final int FIRST_CELLS = 512;
     private static final int MOST_CELLS = 1000000;
     /** Far above what the fuel of a run allows. */
     private static final int MOST_TURNS = 2000000000;
     private static final int MANY = 1000000;
+    private static final String HEXADECIMAL = "0123456789abcdefABCDEF";
+    /** The letters behind a backslash that stand for other bytes, and those bytes. */
+    private static final String ESCAPED = "abtnvfr";
+    private static final String ESCAPES = "\7\b\t\n\13\f\r";
 
     private static final int FINE = 0;
     private static final int ERROR = 1;
@@ -75,6 +83,7 @@ public final class DialogueTongue {
     private static final int ROUNDS = 14;
     private static final int CAUGHT = 15;
     private static final int LIFTED = 16;
+    private static final int WAIT = 17;
     /* What is no task, but the family of a word behind string or info. */
     private static final int STRING_OPTION = 20;
     private static final int INFO_OPTION = 21;
@@ -120,9 +129,9 @@ public final class DialogueTongue {
 
     public DialogueTongue() {
         Peer other = new Peer();
-        Text bytes = new Text(4096, MOST_BYTES);
+        Text bytes = new Text(FIRST_BYTES);
         Machine made = new Machine(bytes, new Reader(bytes));
-        tape = new Text(256, MOST_TAPE);
+        tape = new Text(MOST_TAPE);
         peer = other;
         machine = made;
         sums = new Sums(made);
@@ -175,39 +184,30 @@ public final class DialogueTongue {
         peer.begin();
         machine.begin(tape, fuel);
         tape.wipe();
-        work();
-        return machine.conclude();
-    }
-
-    private void work() {
         for (int turn = 0; turn < MOST_TURNS && machine.base >= 0 && !machine.spent; turn++) {
-            int kind = machine.cells[machine.base + KIND];
-            switch (kind) {
-                case SCRIPT:
-                    machine.scriptTurn();
-                    break;
-                case COMMAND:
-                    machine.commandTurn();
-                    break;
-                case PHRASE:
-                    machine.phraseTurn();
-                    break;
-                case SUM:
-                    sums.turn();
-                    break;
-                case LISTS:
-                    lists.perform();
-                    machine.close();
-                    break;
-                case TEXTS:
-                    texts.perform();
-                    machine.close();
-                    break;
-                default:
-                    flow.turn(kind);
-                    break;
+            machine.bytes.reserve(TURN_BYTES);
+            switch (machine.cells[machine.base + KIND]) {
+                case SCRIPT: machine.scriptTurn(); break;
+                case COMMAND: machine.commandTurn(); break;
+                case PHRASE: machine.phraseTurn(); break;
+                case SUM: sums.turn(); break;
+                case LISTS: lists.perform(); break;
+                case TEXTS: texts.perform(); break;
+                case PLACES: flow.performPlaces(); break;
+                case TALK: flow.performTalk(); break;
+                case FLOW: flow.perform(); break;
+                case WAIT: flow.expect(); break;
+                case CALL: flow.call(); break;
+                case CALLED: flow.called(); break;
+                case CHOICE: flow.choose(); break;
+                case LOOP: flow.loop(); break;
+                case ROUNDS: flow.rounds(); break;
+                case CAUGHT: flow.caught(); break;
+                case LIFTED: flow.lifted(); break;
+                default: machine.close(); break;
             }
         }
+        return machine.conclude();
     }
 
     public int out() {
@@ -283,7 +283,15 @@ public final class DialogueTongue {
         }
 
         final boolean same(View other) {
-            return to - from == other.to - other.from && holds(other, 0);
+            if (to - from != other.to - other.from) {
+                return false;
+            }
+            for (int i = from; i < to; i++) {
+                if (row[i] != other.row[other.from + i - from]) {
+                    return false;
+                }
+            }
+            return true;
         }
 
         /** Whether the other text stands at this offset. */
@@ -321,30 +329,24 @@ public final class DialogueTongue {
         }
 
         final boolean isInteger() {
-            if (from < to && (row[from] == '-' || row[from] == '+')) {
-                return isUnsigned(from + 1, row[from] == '-');
-            }
-            return isUnsigned(from, false);
+            boolean signed = from < to && (row[from] == '-' || row[from] == '+');
+            int first = signed ? from + 1 : from;
+            boolean minus = signed && row[from] == '-';
+            return isHexadecimal(first, minus) || isDecimal(first, minus);
         }
 
-        private boolean isUnsigned(int at, boolean minus) {
-            if (at + 2 < to && row[at] == '0' && row[at + 1] == 'x') {
-                return isHexadecimal(at + 2, minus);
-            }
-            return isDecimal(at, minus);
-        }
-
-        private boolean isHexadecimal(int at, boolean minus) {
-            if (to - at > 16) {
+        private boolean isHexadecimal(int first, boolean minus) {
+            int size = to - first - 2;
+            if (size < 1 || size > 16 || row[first] != '0' || row[first + 1] != 'x') {
                 return false;
             }
             long value = 0;
-            for (int i = at; i < to; i++) {
-                int digit = hexadecimal(row[i]);
+            for (int i = first + 2; i < to; i++) {
+                int digit = HEXADECIMAL.indexOf(row[i]);
                 if (digit < 0) {
                     return false;
                 }
-                value = value << 4 | digit;
+                value = value << 4 | (digit < 16 ? digit : digit - 6);
             }
             number = minus ? -value : value;
             return true;
@@ -384,7 +386,7 @@ public final class DialogueTongue {
             }
             long back = 0;
             if (length() > 3) {
-                if (row[from + 3] != '-' || !isUnsigned(from + 4, false)) {
+                if (row[from + 3] != '-' || !isHexadecimal(from + 4, false) && !isDecimal(from + 4, false)) {
                     return false;
                 }
                 back = number;
@@ -400,14 +402,9 @@ public final class DialogueTongue {
             return length() >= 3 && row[from] == 'e' && row[from + 1] == 'n' && row[from + 2] == 'd';
         }
 
-        static int hexadecimal(char c) {
-            if (c >= '0' && c <= '9') {
-                return c - '0';
-            }
-            if (c >= 'a' && c <= 'f') {
-                return c - 'a' + 10;
-            }
-            return c >= 'A' && c <= 'F' ? c - 'A' + 10 : NONE;
+        /** The number that was read, or the nearest one from low to high. */
+        final int within(int low, int high) {
+            return (int) Math.max(low, Math.min(high, number));
         }
 
         /** What a backslash and what is behind it stand for: 256 times the place behind them, and the byte. */
@@ -417,59 +414,30 @@ public final class DialogueTongue {
                 return next << 8 | '\\';
             }
             char c = row[next];
-            if (c >= '0' && c <= '7') {
-                return octalEscape(row, next, end);
-            }
-            if (c == 'x' && next + 1 < end && hexadecimal(row[next + 1]) >= 0) {
-                return hexadecimalEscape(row, next + 1, end);
-            }
-            return next + 1 << 8 | plainEscape(c);
-        }
-
-        private static int octalEscape(char[] row, int at, int end) {
+            int bits = c == 'x' ? 4 : 3;
+            int first = c == 'x' ? next + 1 : next;
+            int digits = first;
             int value = 0;
-            int next = at;
-            while (next < end && next < at + 3 && row[next] >= '0' && row[next] <= '7') {
-                value = value * 8 + row[next] - '0';
-                next++;
+            while (digits < end && digits < next + 3) {
+                int digit = HEXADECIMAL.indexOf(row[digits]);
+                if (digit < 0 || bits == 3 && digit > 7) {
+                    break;
+                }
+                value = value << bits | (digit < 16 ? digit : digit - 6);
+                digits++;
             }
-            return next << 8 | (value & 255);
+            if (digits > first) {
+                return digits << 8 | (value & 255);
+            }
+            int letter = ESCAPED.indexOf(c);
+            return next + 1 << 8 | (letter < 0 ? c : ESCAPES.charAt(letter));
         }
 
-        private static int hexadecimalEscape(char[] row, int at, int end) {
-            int value = hexadecimal(row[at]);
-            if (at + 1 < end && hexadecimal(row[at + 1]) >= 0) {
-                return at + 2 << 8 | (value * 16 + hexadecimal(row[at + 1]));
-            }
-            return at + 1 << 8 | value;
-        }
-
-        private static char plainEscape(char c) {
-            switch (c) {
-                case 'a':
-                    return 7;
-                case 'b':
-                    return 8;
-                case 'f':
-                    return 12;
-                case 'n':
-                    return 10;
-                case 'r':
-                    return 13;
-                case 't':
-                    return 9;
-                case 'v':
-                    return 11;
-                default:
-                    return c;
-            }
-        }
-
-        /** Whether the whole text fits a pattern; pieces between stars have a fixed length. */
+        /** Whether the whole text fits a pattern; pieces of it, parted by stars, have a fixed length. */
         final boolean fits(View pattern) {
             int piece = pattern.from;
             int stop = pattern.pieceEnd(piece);
-            int at = pieceFits(pattern, piece, stop, from);
+            int at = fit(pattern, piece, stop, from, from);
             if (stop >= pattern.to) {
                 return at == to;
             }
@@ -477,14 +445,11 @@ public final class DialogueTongue {
                 piece = stop + 1;
                 stop = pattern.pieceEnd(piece);
                 if (stop < pattern.to) {
-                    at = firstFit(pattern, piece, stop, at);
+                    at = fit(pattern, piece, stop, at, to);
                 }
             }
-            if (at < 0) {
-                return false;
-            }
-            int start = to - pattern.pieceLength(piece, stop);
-            return start >= at && pieceFits(pattern, piece, stop, start) == to;
+            int start = to - pattern.pieceLength(piece);
+            return at >= 0 && start >= at && fit(pattern, piece, stop, start, start) >= 0;
         }
 
         /** The length of the shortest beginning that fits the pattern with a star ahead; NONE without one. */
@@ -493,33 +458,26 @@ public final class DialogueTongue {
             int piece = pattern.from;
             while (at >= 0 && piece <= pattern.to) {
                 int stop = pattern.pieceEnd(piece);
-                at = firstFit(pattern, piece, stop, at);
+                at = fit(pattern, piece, stop, at, to);
                 piece = stop + 1;
             }
             return at < 0 ? NONE : at - from;
         }
 
-        private int firstFit(View pattern, int piece, int stop, int start) {
-            for (int i = start; i <= to; i++) {
-                int behind = pieceFits(pattern, piece, stop, i);
-                if (behind >= 0) {
-                    return behind;
+        /** Behind the first place of those from one to another where a piece fits, or NONE. */
+        private int fit(View pattern, int piece, int stop, int first, int last) {
+            for (int i = first; i <= last; i++) {
+                int at = i;
+                int token = piece;
+                while (token < stop && at < to && pattern.tokenFits(token, row[at])) {
+                    token = pattern.tokenEnd(token);
+                    at++;
+                }
+                if (token >= stop) {
+                    return at;
                 }
             }
             return NONE;
-        }
-
-        private int pieceFits(View pattern, int piece, int stop, int start) {
-            int at = start;
-            int token = piece;
-            while (token < stop) {
-                if (at >= to || !pattern.tokenFits(token, row[at])) {
-                    return NONE;
-                }
-                token = pattern.tokenEnd(token);
-                at++;
-            }
-            return at;
         }
 
         private int pieceEnd(int piece) {
@@ -530,10 +488,10 @@ public final class DialogueTongue {
             return at;
         }
 
-        private int pieceLength(int piece, int stop) {
+        private int pieceLength(int piece) {
             int size = 0;
             int at = piece;
-            while (at < stop) {
+            while (at < to && row[at] != '*') {
                 at = tokenEnd(at);
                 size++;
             }
@@ -541,46 +499,40 @@ public final class DialogueTongue {
         }
 
         private int tokenEnd(int token) {
-            if (row[token] != '[') {
-                return memberEnd(token);
-            }
-            int at = token + 1;
-            while (at < to && row[at] != ']') {
-                at = memberEnd(at);
+            int at = token;
+            boolean inSet = row[token] == '[';
+            if (inSet) {
+                at++;
+                while (at < to && row[at] != ']') {
+                    at += row[at] == '\\' ? 2 : 1;
+                }
+            } else if (row[at] == '\\') {
+                at++;
             }
             return Math.min(at + 1, to);
         }
 
         private boolean tokenFits(int token, char c) {
-            if (row[token] == '?') {
-                return true;
+            if (row[token] != '[') {
+                boolean escaped = row[token] == '\\' && token + 1 < to;
+                return escaped ? row[token + 1] == c : row[token] == '?' || row[token] == c;
             }
-            return row[token] == '[' ? setFits(token + 1, c) : member(token) == c;
-        }
-
-        private boolean setFits(int first, char c) {
-            int at = first;
+            int at = token + 1;
             while (at < to && row[at] != ']') {
-                char low = member(at);
+                at += row[at] == '\\' && at + 1 < to ? 1 : 0;
+                char low = row[at];
                 char high = low;
-                at = memberEnd(at);
+                at++;
                 if (at + 1 < to && row[at] == '-' && row[at + 1] != ']') {
-                    high = member(at + 1);
-                    at = memberEnd(at + 1);
+                    at += row[at + 1] == '\\' && at + 2 < to ? 2 : 1;
+                    high = row[at];
+                    at++;
                 }
                 if (c >= low && c <= high) {
                     return true;
                 }
             }
             return false;
-        }
-
-        private char member(int at) {
-            return row[at] == '\\' && at + 1 < to ? row[at + 1] : row[at];
-        }
-
-        private int memberEnd(int at) {
-            return row[at] == '\\' && at + 1 < to ? at + 2 : at + 1;
         }
 
         final boolean isPlainElement() {
@@ -628,14 +580,12 @@ public final class DialogueTongue {
         }
     }
 
-    /** A text that grows up to a limit; it tells when something found no place. */
+    /** A text with a row of its own; it tells when something found no place there. */
     private static final class Text extends View {
-        final int limit;
         boolean full;
 
-        Text(int first, int limit) {
-            super(new char[first]);
-            this.limit = limit;
+        Text(int most) {
+            super(new char[most]);
         }
 
         void wipe() {
@@ -649,13 +599,19 @@ public final class DialogueTongue {
             }
         }
 
+        /** Makes room for so many bytes more. */
+        void reserve(int room) {
+            if (row.length - to < room && row.length < MOST_BYTES) {
+                char[] wide = new char[Math.min(MOST_BYTES, Math.max(to + room, row.length * 2))];
+                System.arraycopy(row, 0, wide, 0, to);
+                row = wide;
+            }
+        }
+
         void add(char c) {
-            if (to >= limit) {
+            if (to >= row.length) {
                 full = true;
                 return;
-            }
-            if (to >= row.length) {
-                widen(to + 1);
             }
             row[to] = c;
             to++;
@@ -663,15 +619,11 @@ public final class DialogueTongue {
 
         void add(View piece) {
             int size = piece.to - piece.from;
-            if (size > limit - to) {
+            if (size > row.length - to) {
                 full = true;
-                size = limit - to;
+                size = row.length - to;
             }
-            char[] source = piece.row;
-            if (to + size > row.length) {
-                widen(to + size);
-            }
-            System.arraycopy(source, piece.from, row, to, size);
+            System.arraycopy(piece.row, piece.from, row, to, size);
             to += size;
         }
 
@@ -685,13 +637,6 @@ public final class DialogueTongue {
             to = 0;
             full = false;
             add(other);
-        }
-
-        private void widen(int need) {
-            int size = Math.min(limit, Math.max(need, row.length * 2));
-            char[] wide = new char[size];
-            System.arraycopy(row, 0, wide, 0, to);
-            row = wide;
         }
 
         void addNumber(long n) {
@@ -758,14 +703,15 @@ public final class DialogueTongue {
                 if (needsBackslash(c) || i == element.from && c == '#') {
                     add('\\');
                 }
-                add(c >= 9 && c <= 13 ? "tnvfr".charAt(c - 9) : c);
+                int escape = c >= 9 && c <= 13 ? ESCAPES.indexOf(c) : NONE;
+                add(escape < 0 ? c : ESCAPED.charAt(escape));
             }
         }
     }
 
     /** The elements of a list that was read. */
     private static final class Elements {
-        final Text bytes = new Text(64, LONGEST);
+        final Text bytes = new Text(LONGEST);
         private final int[] ends = new int[LONGEST];
         int count;
 
@@ -805,23 +751,21 @@ public final class DialogueTongue {
         }
 
         /** Adds the element that begins here; the place behind it, or NONE if it can't be read. */
-        int take(View list, int at) {
-            char c = list.row[at];
+        int take(View list, int from) {
+            char c = list.row[from];
+            boolean quoted = c == '"';
+            int at = quoted ? from + 1 : from;
             if (c == '{') {
-                return behind(list, takeBraces(list, at));
+                at = takeBraces(list, from);
+            } else {
+                while (at < list.to && (quoted ? list.row[at] != '"' : !parts(list.row[at]))) {
+                    at = takeByte(list, at);
+                }
+                if (quoted) {
+                    at = at < list.to ? at + 1 : NONE;
+                }
             }
-            if (c == '"') {
-                return behind(list, takeQuotes(list, at + 1));
-            }
-            int next = at;
-            while (next < list.to && !parts(list.row[next])) {
-                next = takeByte(list, next);
-            }
-            return next;
-        }
-
-        private static int behind(View list, int next) {
-            return next < 0 || next >= list.to || parts(list.row[next]) ? next : NONE;
+            return at < 0 || at >= list.to || parts(list.row[at]) ? at : NONE;
         }
 
         private int takeBraces(View list, int at) {
@@ -845,30 +789,18 @@ public final class DialogueTongue {
             return NONE;
         }
 
-        private int takeQuotes(View list, int at) {
-            int next = at;
-            while (next < list.to && list.row[next] != '"') {
-                next = takeByte(list, next);
+        private int takeByte(View list, int from) {
+            if (list.row[from] != '\\') {
+                bytes.add(list.row[from]);
+                return from + 1;
             }
-            return next < list.to ? next + 1 : NONE;
-        }
-
-        private int takeByte(View list, int at) {
-            if (list.row[at] != '\\') {
-                bytes.add(list.row[at]);
-                return at + 1;
+            if (from + 1 >= list.to || list.row[from + 1] != '\n') {
+                int escaped = View.escape(list.row, from, list.to);
+                bytes.add((char) (escaped & 255));
+                return escaped >> 8;
             }
-            if (at + 1 < list.to && list.row[at + 1] == '\n') {
-                bytes.add(' ');
-                return skipBlanks(list, at + 2);
-            }
-            int escaped = View.escape(list.row, at, list.to);
-            bytes.add((char) (escaped & 255));
-            return escaped >> 8;
-        }
-
-        private static int skipBlanks(View list, int from) {
-            int at = from;
+            bytes.add(' ');
+            int at = from + 2;
             while (at < list.to && (list.row[at] == ' ' || list.row[at] == '\t')) {
                 at++;
             }
@@ -1250,7 +1182,7 @@ public final class DialogueTongue {
     private static final class Names {
         private final Text[] names = new Text[MOST_VARIABLES];
         /** Values, or of links the names where they lead. */
-        private final Text[] values = new Text[MOST_VARIABLES];
+        final Text[] values = new Text[MOST_VARIABLES];
         private final int[] frames = new int[MOST_VARIABLES];
         /** The frames where links lead; NONE for what is no link. */
         private final int[] links = new int[MOST_VARIABLES];
@@ -1266,7 +1198,7 @@ public final class DialogueTongue {
         int procedureCount;
         private int spotFrame;
         private View spotName;
-        private final Text target = new Text(16, LONGEST);
+        private final Text target = new Text(LONGEST);
 
         void forget() {
             count = 0;
@@ -1330,7 +1262,7 @@ public final class DialogueTongue {
         }
 
         /** The place of what this name means, links being followed; the spot says where it is or would be. */
-        private int resolve(int frame, View name) {
+        int resolve(int frame, View name) {
             spotFrame = frame;
             spotName = name;
             int slot = find(frame, name);
@@ -1371,8 +1303,8 @@ public final class DialogueTongue {
         private int make(int frame, View name) {
             int slot = count;
             if (names[slot] == null) {
-                names[slot] = new Text(16, LONGEST);
-                values[slot] = new Text(16, LONGEST);
+                names[slot] = new Text(LONGEST);
+                values[slot] = new Text(LONGEST);
             }
             names[slot].become(name);
             frames[slot] = frame;
@@ -1445,9 +1377,9 @@ public final class DialogueTongue {
                 procedureCount++;
             }
             if (procedures[place] == null) {
-                procedures[place] = new Text(16, LONGEST);
-                arguments[place] = new Text(16, LONGEST);
-                bodies[place] = new Text(16, LONGEST);
+                procedures[place] = new Text(LONGEST);
+                arguments[place] = new Text(LONGEST);
+                bodies[place] = new Text(LONGEST);
             }
             procedures[place].become(name);
             arguments[place].become(words);
@@ -1478,13 +1410,13 @@ public final class DialogueTongue {
         int count;
         boolean spawned;
         private int state;
-        private final Text line = new Text(64, LONGEST);
+        private final Text line = new Text(LONGEST);
         private final long[] times = new long[MOST_ANSWERS];
         private final int[] waiting = new int[MOST_ANSWERS];
         private int waitingCount;
-        final Text buffer = new Text(64, LONGEST + MOST_RULE_TEXT);
+        final Text buffer = new Text(LONGEST + MOST_RULE_TEXT);
         long now;
-        final Text told = new Text(256, MOST_TOLD);
+        final Text told = new Text(MOST_TOLD);
 
         int learn(Text tape, int from, int delay, int next) {
             int zero = 0;
@@ -1498,8 +1430,8 @@ public final class DialogueTongue {
                 return NONE;
             }
             if (patterns[count] == null) {
-                patterns[count] = new Text(16, MOST_RULE_TEXT);
-                answers[count] = new Text(16, MOST_RULE_TEXT);
+                patterns[count] = new Text(MOST_RULE_TEXT);
+                answers[count] = new Text(MOST_RULE_TEXT);
             }
             patterns[count].wipe();
             for (int i = 0; i < zero; i++) {
@@ -1614,11 +1546,11 @@ public final class DialogueTongue {
      * leaves a code, and a result or (brackets, phrases) bytes behind those of the task below.
      */
     private static final class Machine {
-        int[] cells = new int[512];
+        int[] cells = new int[FIRST_CELLS];
         int top;
         int base = NONE;
         final Text bytes;
-        final Text result = new Text(64, LONGEST);
+        final Text result = new Text(LONGEST);
         final Reader reader;
         final Names names = new Names();
         int code;
@@ -1700,7 +1632,9 @@ public final class DialogueTongue {
 
         /** The text is not that of the result. */
         void fail(String message, View about) {
-            fail(message);
+            code = ERROR;
+            result.wipe();
+            result.add(message);
             result.add(about);
         }
 
@@ -1720,6 +1654,15 @@ public final class DialogueTongue {
 
         void answer(boolean truth) {
             answer(truth ? 1 : 0);
+        }
+
+        /** Whether a word is a place among so many; it fails otherwise. */
+        boolean isPlace(View word, int among) {
+            if (word.isIndex(among)) {
+                return true;
+            }
+            fail(NO_INTEGER, word);
+            return false;
         }
 
         /** What was joined in the result stays, if it isn't too long. */
@@ -2032,13 +1975,13 @@ public final class DialogueTongue {
 
         private boolean addValue(int from, int to) {
             scratch.look(bytes.row, from, to);
-            Text value = names.value(names.here, scratch);
-            if (value != null) {
-                bytes.add(value);
-                return true;
+            int slot = names.resolve(names.here, scratch);
+            if (slot < 0) {
+                fail(NO_VARIABLE, scratch);
+                return false;
             }
-            fail(NO_VARIABLE, scratch);
-            return false;
+            bytes.add(names.values[slot]);
+            return true;
         }
     }
 
@@ -2088,6 +2031,7 @@ public final class DialogueTongue {
         private final Machine machine;
         private final View left;
         private final View right;
+        private long value;
 
         Sums(Machine machine) {
             this.machine = machine;
@@ -2157,6 +2101,7 @@ public final class DialogueTongue {
         /** Works out an operand, or what stands ahead of one; false if another task goes first. */
         private boolean operand() {
             Reader reader = machine.reader;
+            machine.bytes.reserve(TURN_BYTES);
             int at = reader.gap(machine.cells[machine.base + AT]);
             int sign = reader.sign(at);
             if (sign != 0) {
@@ -2180,7 +2125,11 @@ public final class DialogueTongue {
                     goOn(machine.copyBraces(at), HAVING);
                     return true;
                 case '$':
-                    return variable(at);
+                    int behind = machine.dollar(at);
+                    if (behind >= 0) {
+                        goOn(behind, HAVING);
+                    }
+                    return behind >= 0;
                 default:
                     int stop = reader.nameEnd(at);
                     left.look(machine.bytes.row, at, stop);
@@ -2188,14 +2137,6 @@ public final class DialogueTongue {
                     goOn(stop, HAVING);
                     return true;
             }
-        }
-
-        private boolean variable(int at) {
-            int behind = machine.dollar(at);
-            if (behind >= 0) {
-                goOn(behind, HAVING);
-            }
-            return behind >= 0;
         }
 
         /** Works out what stands behind an operand; false at the end, or if something failed. */
@@ -2208,7 +2149,8 @@ public final class DialogueTongue {
                 return false;
             }
             if (operator == 0) {
-                return closing(at);
+                boolean asks = at < machine.reader.end && machine.bytes.row[at] == '?';
+                return asks ? question(at + 1) : closing(at);
             }
             if (operator == OR || operator == AND) {
                 return shortcut(operator, at + 2);
@@ -2275,20 +2217,25 @@ public final class DialogueTongue {
                 lookAtLast();
                 machine.top -= 2;
                 left.look(machine.bytes.row, lastStart(), right.from);
-                apply(operator);
+                if (isWorkedOut(operator)) {
+                    replace(left.from, value);
+                }
             }
         }
 
-        private void apply(int operator) {
+        /** Leaves the value of left and right; false if it failed. */
+        private boolean isWorkedOut(int operator) {
             if (operator == OR || operator == AND) {
-                if (isInteger(right)) {
-                    replace(left.from, right.number != 0 ? 1 : 0);
+                value = 0;
+                if (isInteger(right) && right.number != 0) {
+                    value = 1;
                 }
             } else if (operator >= EQUAL && operator <= AT_LEAST) {
-                replace(left.from, compares(operator) ? 1 : 0);
+                value = compares(operator) ? 1 : 0;
             } else if (isInteger(left) && isInteger(right)) {
                 calculate(operator, left.number, right.number);
             }
+            return machine.code == FINE;
         }
 
         private boolean compares(int operator) {
@@ -2318,7 +2265,7 @@ public final class DialogueTongue {
             } else if (b < 0 && (operator == SHIFT_LEFT || operator == SHIFT_RIGHT)) {
                 machine.fail("negative shift");
             } else {
-                replace(left.from, calculated(operator, a, b));
+                value = calculated(operator, a, b);
             }
         }
 
@@ -2363,15 +2310,13 @@ public final class DialogueTongue {
             return true;
         }
 
-        /** What ends a part: the expression's end, ? : , and ). */
+        /** What ends a part: the expression's end, a colon, a comma, or a parenthesis. */
         private boolean closing(int at) {
             if (at >= machine.reader.end) {
                 finish();
                 return false;
             }
             switch (machine.bytes.row[at]) {
-                case '?':
-                    return question(at + 1);
                 case ':':
                     machine.top -= 2;
                     goOn(machine.reader.expression(at + 1, 1), HAVING);
@@ -2448,56 +2393,28 @@ public final class DialogueTongue {
 
         void perform() {
             result.wipe();
-            switch (machine.verb) {
-                case LIST:
-                    addWords(1);
-                    break;
-                case CONCAT:
-                    concat();
-                    break;
-                case SPLIT:
-                    split();
-                    break;
-                case LSEARCH:
-                    search();
-                    break;
-                case LSORT:
-                    sort();
-                    break;
-                default:
-                    performOnList();
-                    break;
-            }
-            machine.answerJoined();
-        }
-
-        private void performOnList() {
-            if (!isList(words[1])) {
+            boolean first = machine.verb != Verb.LIST && machine.verb != Verb.CONCAT && machine.verb != Verb.SPLIT
+                && machine.verb != Verb.LSEARCH && machine.verb != Verb.LSORT;
+            if (first && !isList(words[1])) {
+                machine.close();
                 return;
             }
             switch (machine.verb) {
-                case LLENGTH:
-                    machine.answer(elements.count);
-                    break;
-                case LINDEX:
-                    index();
-                    break;
-                case LRANGE:
-                    range();
-                    break;
-                case LINSERT:
-                    insert();
-                    break;
-                case LREPLACE:
-                    replace();
-                    break;
-                case LREVERSE:
-                    reverse();
-                    break;
-                default:
-                    join();
-                    break;
+                case LIST: addWords(1); break;
+                case CONCAT: concat(); break;
+                case SPLIT: split(); break;
+                case LSEARCH: search(); break;
+                case LSORT: sort(); break;
+                case LLENGTH: machine.answer(elements.count); break;
+                case LINDEX: index(); break;
+                case LRANGE: range(); break;
+                case LINSERT: insert(); break;
+                case LREPLACE: replace(); break;
+                case LREVERSE: reverse(); break;
+                default: join(); break;
             }
+            machine.answerJoined();
+            machine.close();
         }
 
         private boolean isList(View text) {
@@ -2506,18 +2423,6 @@ public final class DialogueTongue {
             }
             machine.fail(BAD_LIST);
             return false;
-        }
-
-        private boolean isPlace(View text) {
-            if (text.isIndex(elements.count)) {
-                return true;
-            }
-            machine.fail(NO_INTEGER, text);
-            return false;
-        }
-
-        private static int within(long number, int low, int high) {
-            return (int) Math.max(low, Math.min(high, number));
         }
 
         private void addWords(int first) {
@@ -2534,39 +2439,43 @@ public final class DialogueTongue {
         }
 
         private void index() {
-            if (isPlace(words[2]) && words[2].number >= 0 && words[2].number < elements.count) {
-                elements.pick((int) words[2].number, one);
+            View place = words[2];
+            if (machine.isPlace(place, elements.count) && place.number >= 0 && place.number < elements.count) {
+                elements.pick((int) place.number, one);
                 result.add(one);
             }
         }
 
+        private boolean isRange() {
+            return machine.isPlace(words[2], elements.count) && machine.isPlace(words[3], elements.count);
+        }
+
         private void range() {
-            if (isPlace(words[2]) && isPlace(words[3])) {
-                int from = within(words[2].number, 0, elements.count);
-                addElements(from, within(words[3].number, -1, elements.count - 1) + 1);
+            if (isRange()) {
+                int from = words[2].within(0, elements.count);
+                addElements(from, words[3].within(-1, elements.count - 1) + 1);
             }
         }
 
         private void insert() {
-            if (!isPlace(words[2])) {
-                return;
+            View place = words[2];
+            if (machine.isPlace(place, elements.count)) {
+                int at = place.within(-1, elements.count);
+                at = Math.max(0, Math.min(elements.count, place.countsFromEnd() ? at + 1 : at));
+                addElements(0, at);
+                addWords(3);
+                addElements(at, elements.count);
             }
-            int at = within(words[2].number, -1, elements.count);
-            at = within(words[2].countsFromEnd() ? at + 1 : at, 0, elements.count);
-            addElements(0, at);
-            addWords(3);
-            addElements(at, elements.count);
         }
 
         private void replace() {
-            if (!isPlace(words[2]) || !isPlace(words[3])) {
-                return;
+            if (isRange()) {
+                int from = words[2].within(0, elements.count);
+                int to = words[3].within(-1, elements.count - 1) + 1;
+                addElements(0, from);
+                addWords(4);
+                addElements(Math.max(from, to), elements.count);
             }
-            int from = within(words[2].number, 0, elements.count);
-            int to = within(words[3].number, -1, elements.count - 1) + 1;
-            addElements(0, from);
-            addWords(4);
-            addElements(Math.max(from, to), elements.count);
         }
 
         private void reverse() {
@@ -2731,7 +2640,7 @@ public final class DialogueTongue {
         private final Text result;
         private final Elements elements = new Elements();
         private final View part;
-        private final Text digits = new Text(64, LONGEST);
+        private final Text digits = new Text(LONGEST);
         private boolean toLeft;
         private boolean zeros;
         private boolean plus;
@@ -2752,102 +2661,57 @@ public final class DialogueTongue {
             if (machine.verb == Verb.FORMAT) {
                 format();
             } else {
-                string();
+                Verb option = Verb.named(words[1], STRING_OPTION);
+                if (isGood(option)) {
+                    performOption(option, words[2]);
+                }
             }
             machine.answerJoined();
+            machine.close();
         }
 
-        private void string() {
-            Verb option = Verb.named(words[1], STRING_OPTION);
+        private boolean isGood(Verb option) {
             if (option == null) {
                 machine.fail(BAD_OPTION, words[1]);
-            } else if (option == Verb.IS && machine.count > 2 && !words[2].is("integer")) {
-                machine.fail(BAD_OPTION, words[2]);
-            } else if (!option.takes(machine.count - 2)) {
-                machine.fail(WRONG_NUMBER, words[0]);
-            } else {
-                performOption(option, words[2]);
+                return false;
             }
+            if (option == Verb.IS && machine.count > 2 && !words[2].is("integer")) {
+                machine.fail(BAD_OPTION, words[2]);
+                return false;
+            }
+            if (!option.takes(machine.count - 2)) {
+                machine.fail(WRONG_NUMBER, words[0]);
+                return false;
+            }
+            return true;
         }
 
         private void performOption(Verb option, View first) {
             switch (option) {
-                case LENGTH:
-                    machine.answer(first.length());
-                    break;
-                case INDEX:
-                    index(first);
-                    break;
-                case RANGE:
-                    range(first);
-                    break;
-                case COMPARE:
-                    machine.answer(first.compare(words[3]));
-                    break;
-                case EQUAL:
-                    machine.answer(first.same(words[3]));
-                    break;
-                case MATCH:
-                    machine.answer(words[3].fits(first));
-                    break;
-                case IS:
-                    machine.answer(words[3].isInteger());
-                    break;
-                case FIRST:
-                    findFirst(first, words[3]);
-                    break;
-                case LAST:
-                    findLast(first, words[3]);
-                    break;
-                default:
-                    changeText(option, first);
-                    break;
+                case LENGTH: machine.answer(first.length()); break;
+                case INDEX: index(first); break;
+                case RANGE: range(first); break;
+                case COMPARE: machine.answer(first.compare(words[3])); break;
+                case EQUAL: machine.answer(first.same(words[3])); break;
+                case MATCH: machine.answer(words[3].fits(first)); break;
+                case IS: machine.answer(words[3].isInteger()); break;
+                case FIRST: findFirst(first, words[3]); break;
+                case LAST: findLast(first, words[3]); break;
+                case TOLOWER: changeCase(first, 'A', 'Z', 32); break;
+                case TOUPPER: changeCase(first, 'a', 'z', -32); break;
+                case TRIM: trim(first, true, true); break;
+                case TRIMLEFT: trim(first, true, false); break;
+                case TRIMRIGHT: trim(first, false, true); break;
+                case REPEAT: repeat(first, words[3]); break;
+                case REVERSE: reverse(first); break;
+                case MAP: map(first, words[3]); break;
+                default: replace(first); break;
             }
         }
 
-        private void changeText(Verb option, View text) {
-            switch (option) {
-                case TOLOWER:
-                    changeCase(text, 'A', 'Z', 32);
-                    break;
-                case TOUPPER:
-                    changeCase(text, 'a', 'z', -32);
-                    break;
-                case TRIM:
-                    trim(text, true, true);
-                    break;
-                case TRIMLEFT:
-                    trim(text, true, false);
-                    break;
-                case TRIMRIGHT:
-                    trim(text, false, true);
-                    break;
-                case REPEAT:
-                    repeat(text, words[3]);
-                    break;
-                case REVERSE:
-                    result.add(text);
-                    result.turnRound(0);
-                    break;
-                case MAP:
-                    map(text, words[3]);
-                    break;
-                default:
-                    replace(text);
-                    break;
-            }
-        }
-
-        private boolean isPlace(View word, View text) {
-            if (word.isIndex(text.length())) {
-                return true;
-            }
-            machine.fail(NO_INTEGER, word);
-            return false;
-        }
-
-        private static int within(long number, int low, int high) {
-            return (int) Math.max(low, Math.min(high, number));
+        private void reverse(View text) {
+            result.add(text);
+            result.turnRound(0);
         }
 
         /** Adds the bytes from one place up to another one. */
@@ -2860,24 +2724,24 @@ public final class DialogueTongue {
 
         private void index(View text) {
             View place = words[3];
-            if (isPlace(place, text) && place.number >= 0 && place.number < text.length()) {
+            if (machine.isPlace(place, text.length()) && place.number >= 0 && place.number < text.length()) {
                 result.add(text.row[text.from + (int) place.number]);
             }
         }
 
         private void range(View text) {
-            if (isPlace(words[3], text) && isPlace(words[4], text)) {
-                int from = within(words[3].number, 0, text.length());
-                addPart(text, from, within(words[4].number, -1, text.length() - 1) + 1);
+            if (machine.isPlace(words[3], text.length()) && machine.isPlace(words[4], text.length())) {
+                int from = words[3].within(0, text.length());
+                addPart(text, from, words[4].within(-1, text.length() - 1) + 1);
             }
         }
 
         private void replace(View text) {
-            if (!isPlace(words[3], text) || !isPlace(words[4], text)) {
+            if (!machine.isPlace(words[3], text.length()) || !machine.isPlace(words[4], text.length())) {
                 return;
             }
-            int from = within(words[3].number, 0, text.length());
-            int to = within(words[4].number, -1, text.length() - 1) + 1;
+            int from = words[3].within(0, text.length());
+            int to = words[4].within(-1, text.length() - 1) + 1;
             if (from >= to) {
                 result.add(text);
                 return;
@@ -2892,10 +2756,10 @@ public final class DialogueTongue {
         private void findFirst(View wanted, View text) {
             int from = 0;
             if (machine.count == 5) {
-                if (!isPlace(words[4], text)) {
+                if (!machine.isPlace(words[4], text.length())) {
                     return;
                 }
-                from = within(words[4].number, 0, text.length());
+                from = words[4].within(0, text.length());
             }
             int found = NONE;
             for (int i = from; i < text.length() && found < 0; i++) {
@@ -2909,10 +2773,10 @@ public final class DialogueTongue {
         private void findLast(View wanted, View text) {
             int last = text.length() - 1;
             if (machine.count == 5) {
-                if (!isPlace(words[4], text)) {
+                if (!machine.isPlace(words[4], text.length())) {
                     return;
                 }
-                last = within(words[4].number, -1, last);
+                last = words[4].within(-1, last);
             }
             int found = NONE;
             for (int i = last - wanted.length() + 1; i >= 0 && found < 0; i--) {
@@ -3131,81 +2995,31 @@ public final class DialogueTongue {
             other = new View(machine.bytes.row);
         }
 
-        void turn(int kind) {
-            switch (kind) {
-                case PLACES:
-                    result.wipe();
-                    performPlaces();
-                    machine.close();
-                    break;
-                case TALK:
-                    result.wipe();
-                    performTalk();
-                    machine.close();
-                    break;
-                case FLOW:
-                    result.wipe();
-                    perform();
-                    break;
-                case CALL:
-                    call();
-                    break;
-                case CALLED:
-                    called();
-                    break;
-                case CHOICE:
-                    choose();
-                    break;
-                case LOOP:
-                    loop();
-                    break;
-                case ROUNDS:
-                    rounds();
-                    break;
-                case CAUGHT:
-                    caught();
-                    break;
-                case LIFTED:
-                    names.here = machine.cells[machine.base + FRAME];
-                    machine.close();
-                    break;
-                default:
-                    machine.close();
-                    break;
+        void performPlaces() {
+            result.wipe();
+            switch (machine.verb) {
+                case SET: set(); break;
+                case UNSET: unset(); break;
+                case INCR: increase(); break;
+                case APPEND: append(false); break;
+                case LAPPEND: append(true); break;
+                case GLOBAL: global(); break;
+                case UPVAR: upvar(); break;
+                case PROC: define(); break;
+                default: inform(); break;
+            }
+            machine.close();
+        }
+
+        private void unset() {
+            if (!names.unset(words[1])) {
+                machine.fail(NO_VARIABLE, words[1]);
             }
         }
 
-        private void performPlaces() {
-            switch (machine.verb) {
-                case SET:
-                    set();
-                    break;
-                case UNSET:
-                    if (!names.unset(words[1])) {
-                        machine.fail(NO_VARIABLE, words[1]);
-                    }
-                    break;
-                case INCR:
-                    increase();
-                    break;
-                case APPEND:
-                case LAPPEND:
-                    append(machine.verb == Verb.LAPPEND);
-                    break;
-                case GLOBAL:
-                    for (int i = 1; i < machine.count && names.level() > 0 && machine.code == FINE; i++) {
-                        link(0, words[i], words[i]);
-                    }
-                    break;
-                case UPVAR:
-                    upvar();
-                    break;
-                case PROC:
-                    define();
-                    break;
-                default:
-                    inform();
-                    break;
+        private void global() {
+            for (int i = 1; i < machine.count && names.level() > 0 && machine.code == FINE; i++) {
+                link(0, words[i], words[i]);
             }
         }
 
@@ -3372,7 +3186,7 @@ public final class DialogueTongue {
             pair.pick(0, part);
         }
 
-        private void call() {
+        void call() {
             machine.lookAtWords();
             int procedure = names.procedure(words[0]);
             Text body = names.bodyOf(procedure);
@@ -3432,7 +3246,7 @@ public final class DialogueTongue {
             }
         }
 
-        private void called() {
+        void called() {
             names.closeFrame();
             if (machine.code == RETURN) {
                 machine.code = machine.given;
@@ -3443,32 +3257,32 @@ public final class DialogueTongue {
             machine.close();
         }
 
-        private void performTalk() {
+        void performTalk() {
+            result.wipe();
             switch (machine.verb) {
-                case PUTS:
-                    peer.note(PUT_OUT, words[1]);
-                    break;
-                case SPAWN:
-                    peer.spawn();
-                    break;
-                case SEND:
-                    if (peer.spawned) {
-                        peer.note(SENT, words[1]);
-                        peer.get(words[1]);
-                    } else {
-                        machine.fail(NO_PEER);
-                    }
-                    break;
-                case AFTER:
-                    if (words[1].isInteger()) {
-                        peer.now += ticks(words[1].number);
-                    } else {
-                        machine.fail(NO_INTEGER, words[1]);
-                    }
-                    break;
-                default:
-                    machine.answer(peer.now);
-                    break;
+                case PUTS: peer.note(PUT_OUT, words[1]); break;
+                case SPAWN: peer.spawn(); break;
+                case SEND: send(); break;
+                case AFTER: after(); break;
+                default: machine.answer(peer.now); break;
+            }
+            machine.close();
+        }
+
+        private void send() {
+            if (!peer.spawned) {
+                machine.fail(NO_PEER);
+                return;
+            }
+            peer.note(SENT, words[1]);
+            peer.get(words[1]);
+        }
+
+        private void after() {
+            if (words[1].isInteger()) {
+                peer.now += ticks(words[1].number);
+            } else {
+                machine.fail(NO_INTEGER, words[1]);
             }
         }
 
@@ -3477,48 +3291,38 @@ public final class DialogueTongue {
         }
 
         /** A command that may run scripts: either it is done at once, or its task goes on. */
-        private void perform() {
+        void perform() {
+            result.wipe();
             switch (machine.verb) {
-                case IF:
-                    beginChoice();
-                    break;
-                case WHILE:
-                    beginLoop(1, 0, 2);
-                    break;
-                case FOR:
-                    beginLoop(2, 3, 4);
-                    break;
-                case FOREACH:
-                    beginRounds();
-                    break;
-                case SWITCH:
-                    pickBody();
-                    break;
-                case EVAL:
-                    if (isJoined(1)) {
-                        pass();
-                    }
-                    break;
-                case UPLEVEL:
-                    lift();
-                    break;
-                case CATCH:
-                    machine.cells[machine.base + KIND] = CAUGHT;
-                    openBody(1);
-                    break;
-                case EXPR:
-                    if (isJoined(1)) {
-                        machine.cells[machine.base + KIND] = PASS;
-                        machine.openSum(from, to);
-                    }
-                    break;
-                case EXPECT:
-                    expect();
-                    break;
-                default:
-                    giveCode();
-                    break;
+                case IF: beginChoice(); break;
+                case WHILE: beginLoop(1, 0, 2); break;
+                case FOR: beginLoop(2, 3, 4); break;
+                case FOREACH: beginRounds(); break;
+                case SWITCH: pickBody(); break;
+                case EVAL: evaluate(); break;
+                case UPLEVEL: lift(); break;
+                case CATCH: guard(); break;
+                case EXPR: calculate(); break;
+                default: giveCode(); break;
             }
+        }
+
+        private void evaluate() {
+            if (isJoined(1)) {
+                pass();
+            }
+        }
+
+        private void calculate() {
+            if (isJoined(1)) {
+                machine.cells[machine.base + KIND] = PASS;
+                machine.openSum(from, to);
+            }
+        }
+
+        private void guard() {
+            machine.cells[machine.base + KIND] = CAUGHT;
+            openBody(1);
         }
 
         private void giveCode() {
@@ -3647,7 +3451,12 @@ public final class DialogueTongue {
             return first < word.to;
         }
 
-        private void caught() {
+        void lifted() {
+            names.here = machine.cells[machine.base + FRAME];
+            machine.close();
+        }
+
+        void caught() {
             int code = machine.code;
             machine.code = FINE;
             machine.lookAtWords();
@@ -3703,7 +3512,7 @@ public final class DialogueTongue {
             return body < machine.count && last + 1 >= machine.count;
         }
 
-        private void choose() {
+        void choose() {
             boolean truth = machine.code == FINE && isTrue();
             if (machine.code != FINE) {
                 machine.close();
@@ -3737,7 +3546,7 @@ public final class DialogueTongue {
             }
         }
 
-        private void loop() {
+        void loop() {
             int state = machine.cells[machine.base + STATE];
             int next = machine.cells[machine.base + NEXT];
             if (state == STEPPED && machine.code == DialogueTongue.CONTINUE) {
@@ -3779,7 +3588,7 @@ public final class DialogueTongue {
             machine.cells[machine.base + AT] = words[2].from;
         }
 
-        private void rounds() {
+        void rounds() {
             boolean ends = machine.cells[machine.base + STATE] == DONE && endsRound();
             if (machine.code != FINE) {
                 machine.close();
@@ -3871,7 +3680,8 @@ public final class DialogueTongue {
             pass();
         }
 
-        private void expect() {
+        void expect() {
+            result.wipe();
             if (machine.count % 2 == 0) {
                 machine.fail(WRONG_NUMBER, words[0]);
                 machine.close();
@@ -3976,7 +3786,7 @@ public final class DialogueTongue {
         PUTS(TALK, "puts", 1, 1),
         SPAWN(TALK, "spawn", 0, 0),
         SEND(TALK, "send", 1, 1),
-        EXPECT(FLOW, "expect", 2, MANY),
+        EXPECT(WAIT, "expect", 2, MANY),
         AFTER(TALK, "after", 1, 1),
         CLOCK(TALK, "clock", 0, 0),
 
