@@ -3187,7 +3187,6 @@ public final class DialogueTongue {
         }
 
         void call() {
-            machine.lookAtWords();
             int procedure = names.procedure(words[0]);
             Text body = names.bodyOf(procedure);
             elements.read(names.argumentsOf(procedure));

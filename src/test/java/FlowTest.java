@@ -35,6 +35,7 @@ public final class FlowTest {
         talk.fails("no such variable: ", "catch {} {}").fine("0", "info exists {}").fails("no such variable: ", "set {}");
         talk.fails("no such variable: ", "upvar 0 a {}").fine("", "upvar 0 {} a").fails("no such variable: ", "upvar 0 {} a; set a 1");
         talk.fails("no such variable: a", "upvar 0 {} a; set a").fails("no such variable: ", "proc f {{{} 1}} {}; f");
+        talk.fails("no such command: pet", "pet a 1").fails("no such command: se", "se a 1").fails("no such command: Set", "Set a 1");
         talk.fails("bad option: x", "info x y z").fails("wrong number of words: info", "info");
         talk.fails("wrong number of words: info", "info exists").fails("wrong number of words: info", "info level 1");
     }
@@ -101,6 +102,7 @@ public final class FlowTest {
         talk.fine("{} a b c", "proc b {} {}; proc a {} {}; proc c {} {}; proc {} {} {}; info procs").fine("", "info procs");
         talk.fails("break outside of a loop", "proc f {} break; while 1 f").fails("continue outside of a loop", "proc f {} continue; while 1 f");
         talk.fails("no such variable: x", "proc f {} {set x}; set x 1; f").fails("no such variable: y", "proc f {} {set y 1}; f; set y");
+        talk.fine("1", "proc f {a {b 2}} {set a}; proc g {} {}; f 1").fine("1 2", "proc f {a {b 2}} {list $a $b}; foreach x {u v w} {}; f 1");
         talk.fine("120", "proc f n {if {$n < 2} {return 1}; expr {$n * [f [expr {$n - 1}]]}}; f 5");
     }
 

@@ -17,6 +17,7 @@ public final class ListTest {
         talk.fine("{\t} {\n} {\13} {\f} {\r}", "list \\t \\n \\v \\f \\r").fine("\\t\\{ \\n\\{ \\v\\{ \\f\\{ \\r\\{", "list \\t\\{ \\n\\{ \\v\\{ \\f\\{ \\r\\{");
         talk.fine("\\#\\{ a#\\{", "list \\#\\{ a#\\{");
         talk.fine("\\ \\\"\\$\\;\\[\\]\\}", "list \" \\\"\\$;\\[\\]\\}\"").fine("a b {c d}", "lreverse {{c d}   b\ta}");
+        talk.fine("\16 \10 a!z \u007f", "list \16 \10 a!z \u007f").fine("2", "llength \"a\\x0e b\"");
         talk.fine("{}", "list {}").fine("{ }", "list { }").fine("\u00ff", "list \u00ff");
     }
 
@@ -27,6 +28,7 @@ public final class ListTest {
         talk.fine("", "lindex {a b} 2").fine("", "lindex {a b} -1").fine("", "lindex {a b} end-2").fine("", "lindex {} end").fine("", "lindex {a b} 99999999999");
         talk.fails("not an integer: x", "lindex {a b} x").fails("not an integer: end-", "lindex a end-").fails("not an integer: end-+1", "lindex a end-+1");
         talk.fails("not an integer: end+1", "lindex a end+1").fails("not an integer: ", "lindex a {}").fails("bad list", "lindex \\{ x");
+        talk.fails("not an integer: abc", "lindex {a b} abc").fails("not an integer: en", "lindex {a b} en").fails("not an integer: End", "lindex {a b} End");
         talk.fails("not an integer: end--1", "lindex a end--1").fails("not an integer: ende", "lindex a ende");
         talk.fine("b c", "lrange {a b c d} 1 2").fine("a b", "lrange {a b c d} -5 1").fine("d", "lrange {a b c d} 3 99").fine("", "lrange {a b c d} 2 1").fine("", "lrange {} 0 end");
         talk.fine("c d", "lrange {a b c d} end-1 end").fine("", "lrange {a b} 5 7").fine("", "lrange {a b} -3 -1").fails("not an integer: x", "lrange a x y").fails("not an integer: y", "lrange a 0 y");

@@ -38,6 +38,7 @@ public final class PeerTest {
         talk.fine("10", "spawn; set timeout x; expect nothing {}; clock").fine("0", "spawn; set timeout -5; expect nothing {}; clock");
         talk.fine("1000000", "spawn; set timeout 99999999999; expect nothing {}; clock").fine("3", "spawn; set t 3; upvar 0 t timeout; expect nothing {}; clock");
         talk.fine("10", "proc f {} {set timeout 4; expect nothing {}; clock}; spawn; f").fine("a", "spawn; expect timeout {set x a} timeout {set x b}");
+        talk.fine("", "spawn; expect [set x nothing] {set x a}").fine("ok", "spawn; send [set x bob]; spawn; expect login {set r ok}");
         talk.fine("", "spawn; expect nothing {set x a}").fine("5 ok", "spawn; after 5; set timeout 0; expect login {set r ok}; list [clock] $r");
         talk.fine("5 late", "spawn; after 5; set timeout 0; expect nothing {set r ok} timeout {set r late}; list [clock] $r").tells("\2login: ", "spawn; after 5; set timeout 0; expect nothing {}");
         talk.fine("0", "spawn; after 0; clock").fine("0", "after -3; clock").fine("1000000", "after 1000001; clock").fails("not an integer: x", "after x").fine("", "after 3").fine("0", "clock");
@@ -72,6 +73,8 @@ public final class PeerTest {
         talk.fine("f 1", "spawn; send slow; spawn; send fast\\n; expect f {}; list $expect_out [clock]");
         talk.fine("all none", "spawn; for {set i 0} {$i < 70} {incr i} {send fast\\n}; expect [string repeat f 64] {set r all}; "
             + "expect f {set s more} timeout {set s none}; list $r $s");
+        talk.fine("fsa 6", "spawn; send slow\\n; after 1; send also\\n; send fast\\n; expect a {}; list $expect_out [clock]");
+        talk.fine("asf", "spawn; after 0; send also\\nslow\\n; after 4; send fast\\n; expect f {set expect_out}");
         talk.fine("s 7", "spawn; send slow\\n; after 7; expect s {}; list $expect_out [clock]");
     }
 

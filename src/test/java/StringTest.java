@@ -29,6 +29,8 @@ public final class StringTest {
         talk.fine("1", "string first b abcb").fine("3", "string first b abcb 2").fine("-1", "string first b abcb 4").fine("1", "string first b abcb -7").fine("3", "string first b abcb end");
         talk.fine("-1", "string first {} abc").fine("-1", "string first x {}").fine("-1", "string first abcd abc").fails("not an integer: x", "string first a b x");
         talk.fine("3", "string last b abcb").fine("1", "string last b abcb 2").fine("-1", "string last b abcb 0").fine("1", "string last bc abcbd 2").fine("-1", "string last bc abcbd 1");
+        talk.fine("0", "string last a abc").fine("0", "string first a abc").fine("0", "string last abc abc").fine("2", "string first c abc end");
+        talk.fine("", "string range [set x abc] 5 6").fine("", "string index [set x abc] 5").fine("", "lindex [set x abc] 5");
         talk.fine("3", "string last b abcb 99").fine("-1", "string last {} abc").fine("-1", "string last b abcb -1").fine("1", "string last b abcb end-1").fine("-1", "string last abc {}");
     }
 
@@ -88,6 +90,7 @@ public final class StringTest {
     private static void formats() {
         Talk talk = new Talk();
         talk.fine("a 5 b", "format {a %d b} 5").fine("   5|5   |0005", "format %4d|%-4d|%04d 5 5 5").fine("-005|+005|+5| 5", "format {%04d|%+04d|%+d|% d} -5 5 5 5");
+        talk.fine("+0 0", "format {%+d% d} 0 0").fine("0000", "format %04d 0").fine("0 0", "format {%x %d} 0 -0");
         talk.fine("+5", "format {% +d} 5").fine("-5", "format {%+ d} -5").fine("ff FF 377", "format {%x %X %o} 255 255 255").fine("ffffffffffffffff", "format %x -1");
         talk.fine("1777777777777777777777", "format %o -1").fine("  ff|ff  |00ff", "format %4x|%-4x|%04x 255 255 255").fine("ff", "format {%+ x} 255").fine("00ff", "format %+04x 255");
         talk.fine("A|  A|A  |  A", "format %c|%3c|%-3c|%03c 65 65 65 65").fine("\0\u00ff", "format %c%c 256 -1").fine("ab|  ab|ab  |  ab", "format %s|%4s|%-4s|%04s ab ab ab ab");
