@@ -129,6 +129,8 @@ public final class FaceTest {
         Talk.check("what was told stays", talk.told(), "\3b\n");
         Talk.check("no fuel at all", talk.run("set a 1", 0), 5);
         Talk.check("nothing to be run", talk.run(" ; # a", 0), 0);
+        Talk.check("a run that ends within a procedure", talk.run("proc f {} {eval {if 1 {while 1 {}}}}; f", 20), 5);
+        talk.fine("0", "info level").fine("30", "set e {incr n; eval $e}; catch {eval $e}; set n");
         talk.gives(2, "x", "return -code 2 x").gives(3, "x", "return -code 3 x").gives(4, "x", "return -code 4 x");
     }
 

@@ -35,6 +35,7 @@ public final class FlowTest {
         talk.fails("no such variable: ", "catch {} {}").fine("0", "info exists {}").fails("no such variable: ", "set {}");
         talk.fails("no such variable: ", "upvar 0 a {}").fine("", "upvar 0 {} a").fails("no such variable: ", "upvar 0 {} a; set a 1");
         talk.fails("no such variable: a", "upvar 0 {} a; set a").fails("no such variable: ", "proc f {{{} 1}} {}; f");
+        talk.fails("no such command: length", "length a").fails("no such command: exists", "exists a").fails("bad option: set", "string set");
         talk.fails("no such command: pet", "pet a 1").fails("no such command: se", "se a 1").fails("no such command: Set", "Set a 1");
         talk.fails("bad option: x", "info x y z").fails("wrong number of words: info", "info");
         talk.fails("wrong number of words: info", "info exists").fails("wrong number of words: info", "info level 1");
@@ -52,6 +53,8 @@ public final class FlowTest {
         talk.tells("", "if {[puts a] eq {}} b else").fails("not an integer: x", "if {\"x\"} {}").fails("bad expression: ", "if {} {}");
         talk.fine("", "if 1 {}").fine("a", "if 0x0 {} {set x a}").fails("no such command: else", "if 1 else x");
         talk.fine("7", "proc f {} {if {[return 7]} {}; set x 8}; f");
+        talk.fine("2", "if {[list x y z] eq {}} then {set a 1} elseif {[list] eq {}} then {set a 2} else {set a 3}");
+        talk.fine("3", "if {[list] ne {}} {set a 1} elseif {[llength [list u v w x y]] == 4} {set a 2} else {set a 3}");
     }
 
     private static void loops() {
@@ -103,6 +106,7 @@ public final class FlowTest {
         talk.fails("break outside of a loop", "proc f {} break; while 1 f").fails("continue outside of a loop", "proc f {} continue; while 1 f");
         talk.fails("no such variable: x", "proc f {} {set x}; set x 1; f").fails("no such variable: y", "proc f {} {set y 1}; f; set y");
         talk.fine("1", "proc f {a {b 2}} {set a}; proc g {} {}; f 1").fine("1 2", "proc f {a {b 2}} {list $a $b}; foreach x {u v w} {}; f 1");
+        talk.fine("0", "proc f {{{} 1}} {}; catch f; info level").fine("0", "proc f {} {set r [info exists a]; set a 1; set r}; f; f");
         talk.fine("120", "proc f n {if {$n < 2} {return 1}; expr {$n * [f [expr {$n - 1}]]}}; f 5");
     }
 

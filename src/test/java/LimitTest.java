@@ -42,6 +42,7 @@ public final class LimitTest {
         talk.fails("too long", "set x [string repeat a 1018]; nosuch- $x $x 123456");
         talk.fine("128", "expr [llength [list" + " a".repeat(127) + "]] + 1").fails("too long", "list" + " a".repeat(128)).tells("\3b\n", "list" + " a".repeat(128) + " [puts b]");
         talk.fails("too long", "nosuch" + " a".repeat(200)).fails("no such variable: b", "list" + " a".repeat(200) + " $b");
+        talk.fails("too long", "set x $a(" + "b".repeat(1022) + ")").fine("1", "set {a(" + "b".repeat(1021) + ")} 1; set x $a(" + "b".repeat(1021) + ")");
         talk.fails("too long", "set x $a(" + "b".repeat(1023) + ")").tells("\3b\n", "catch {set x $a(" + "b".repeat(900) + "[puts b][string repeat c 200])}");
         talk.fails("too long", "set x $" + "a".repeat(1024) + "([puts b])").tells("", "set x $" + "a".repeat(1024) + "([puts b])");
         talk.fails("no such variable: a(" + "b".repeat(1004), "set x $a(" + "b".repeat(1021) + ")");
@@ -66,6 +67,7 @@ public final class LimitTest {
         talk.fails("too long", "linsert " + "{" + "a ".repeat(500) + "}" + " 0 " + "b".repeat(30)).fails("too long", "lreplace [string repeat {a } 500] 0 0 [string repeat b 30]");
         talk.fails("too long", "expr [string repeat 1 600] [string repeat 1 600]").fails("too long", "eval [string repeat 1 600] [string repeat 1 600]");
         talk.fails("too long", "proc f {} {uplevel [string repeat a 600] [string repeat a 600]}; f").costs(3, "expr [string repeat 1 600] [string repeat 1 600]");
+        talk.fine("1", "set x [string repeat { } 1016]; eval $x {set q 1}").fails("too long", "set x [string repeat { } 1017]; eval $x {set q 1}");
         talk.fails("bad expression: " + "1".repeat(1008), "expr [string repeat 1 1024]").fails("too long", "set e \"\\\"\\$x\\$x\\\"\"; set x [string repeat a 600]; expr $e");
     }
 
@@ -92,6 +94,7 @@ public final class LimitTest {
         String most = "for {set i 0} {$i < 32} {incr i} {proc p$i {} {set x 1}}; ";
         Talk talk = new Talk();
         talk.fine("32", most + "llength [info procs]").fails("too many procedures", most + "proc q {} {}").fine("2", most + "proc p3 {} {set x 2}; p3");
+        talk.fails("too long", "for {set i 0} {$i < 11} {incr i} {proc [string repeat p 100]$i {} {}}; info procs");
         talk.fails("bad list", most + "proc q \\{ {}").fails("can't be changed: if", most + "proc if {} {}").fails("no such command: q", most + "catch {proc q {} {}}; q");
     }
 }

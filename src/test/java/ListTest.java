@@ -18,6 +18,8 @@ public final class ListTest {
         talk.fine("\\#\\{ a#\\{", "list \\#\\{ a#\\{");
         talk.fine("\\ \\\"\\$\\;\\[\\]\\}", "list \" \\\"\\$;\\[\\]\\}\"").fine("a b {c d}", "lreverse {{c d}   b\ta}");
         talk.fine("\16 \10 a!z \u007f", "list \16 \10 a!z \u007f").fine("2", "llength \"a\\x0e b\"");
+        talk.fine("\16\\{ \7\\{ \10\\{", "list \16\\{ \7\\{ \10\\{").fine("2", "llength a\\rb").fine("1", "llength a\\x0eb").fine("2", "llength a\\tb");
+        talk.fine("a b", "lindex \"a\\\\\\nb\" 0").fine("a b", "lindex \"a\\\\\\n \\tb\" 0").fine("a  b", "lindex \"a\\\\\\n \\\\\\nb\" 0");
         talk.fine("{}", "list {}").fine("{ }", "list { }").fine("\u00ff", "list \u00ff");
     }
 
@@ -62,7 +64,7 @@ public final class ListTest {
 
     private static void joining() {
         Talk talk = new Talk();
-        talk.fine("a b c d", "concat { a b } {} {c\n} \"\\t\" d").fine("", "concat").fine("\13a", "concat \\va").fine("\ra", "concat \\ra");
+        talk.fine("a b", "concat a b").fine("a b c d", "concat { a b } {} {c\n} \"\\t\" d").fine("", "concat").fine("\13a", "concat \\va").fine("\ra", "concat \\ra");
         talk.fine("a b c", "join {a {b c}}").fine("a--b c", "join {a {b c}} --").fine("ab", "join {a b} {}").fine("", "join {} x").fails("bad list", "join \\{");
         talk.fine("a {} b c", "split {a  b c}").fine("a b c d", "split \"a\\nb\\tc\\rd\"").fine("a b {} c", "split a,b,\\;c ,\\;");
         talk.fine("a { } b", "split {a b} {}").fine("", "split {}").fine("", "split {} {}").fine("{} {}", "split , ,").fine("{a\13b}", "split a\\vb");

@@ -74,6 +74,7 @@ public final class PeerTest {
         talk.fine("all none", "spawn; for {set i 0} {$i < 70} {incr i} {send fast\\n}; expect [string repeat f 64] {set r all}; "
             + "expect f {set s more} timeout {set s none}; list $r $s");
         talk.fine("fsa 6", "spawn; send slow\\n; after 1; send also\\n; send fast\\n; expect a {}; list $expect_out [clock]");
+        talk.fine("5", "spawn; send slow\\n; after 1; send also\\n; send fast\\n; expect s {clock}");
         talk.fine("asf", "spawn; after 0; send also\\nslow\\n; after 4; send fast\\n; expect f {set expect_out}");
         talk.fine("s 7", "spawn; send slow\\n; after 7; expect s {}; list $expect_out [clock]");
     }
@@ -115,5 +116,7 @@ public final class PeerTest {
         talk.run("set v [string repeat x 1022]; for {set i 0} {$i < 31} {incr i} {puts $v}; puts [string range $v 3 end]; puts aa; puts b; spawn; send {}");
         Talk.check("what fits behind that is told", talk.told().endsWith("x\n\3b\n"), true);
         Talk.check("up to the last byte", talk.tongue.told(), 32768);
+        talk.run("set v [string repeat x 1022]; for {set i 0} {$i < 31} {incr i} {puts $v}; puts [string range $v 1 end]; spawn; send {}");
+        Talk.check("a byte more", talk.told().endsWith("x\n\1"), true);
     }
 }

@@ -51,6 +51,7 @@ public final class ReadingTest {
         Talk talk = new Talk();
         talk.fine("\7\b\f\n\r\t\13", "set x \\a\\b\\f\\n\\r\\t\\v");
         talk.fine("AA1\n\u00ffg", "set x \\x41\\x411\\xa\\xFFg");
+        talk.fine("\u00a1\u00af\u00fa", "set x \\xA1\\xAf\\xfA").fine("11", "set y \"[eval {set x 1}]$x\"");
         talk.fine("xg", "set x \\xg").fine("A81", "set x \\1018\\61").fine("\u00ff\0", "set x \\377\\400");
         talk.fine("8q ;$[", "set x \\8\\q\\ \\;\\$\\[").fine("a\\", "set x a\\");
         talk.fine("\\n", "set x {\\n}").fine("a b", "set x \"a\\\n   \t b\"").fine("a b", "set x {a\\\n   b}");
@@ -63,6 +64,7 @@ public final class ReadingTest {
         talk.fine("a b", "list\ta \\\n  \\\n\t b").fine("a b", " \\\n list a\\\nb");
         talk.fine("{a } b", "list {a }\\\nb").fine("a b", "list \"a\"\\\nb");
         talk.fine("1", "# set x 2 \\\n set x 3\nset x 1").fine("", "# x").fine("", "# x\\").fine("2", "set x 1;#y\nset x 2");
+        talk.fine("1", "set x 1 \\\n").fine("a", "list a\\\n").fine("2", "set x 1\n# a\\\\\nset x 2");
         talk.fine("#", "set x #").fine("1", "set x [# ]\nset y 1]").fails("missing close-bracket", "set x [# ]");
         talk.fails("no such command: x#", "x#").fine("5", "; # a ; set x 3\n ;set x 5;");
     }

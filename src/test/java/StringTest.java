@@ -29,6 +29,7 @@ public final class StringTest {
         talk.fine("1", "string first b abcb").fine("3", "string first b abcb 2").fine("-1", "string first b abcb 4").fine("1", "string first b abcb -7").fine("3", "string first b abcb end");
         talk.fine("-1", "string first {} abc").fine("-1", "string first x {}").fine("-1", "string first abcd abc").fails("not an integer: x", "string first a b x");
         talk.fine("3", "string last b abcb").fine("1", "string last b abcb 2").fine("-1", "string last b abcb 0").fine("1", "string last bc abcbd 2").fine("-1", "string last bc abcbd 1");
+        talk.fine("0", "string first a abc 0").fine("0", "lsearch {{}} *").fine("0", "string first {a b} {a b}");
         talk.fine("0", "string last a abc").fine("0", "string first a abc").fine("0", "string last abc abc").fine("2", "string first c abc end");
         talk.fine("", "string range [set x abc] 5 6").fine("", "string index [set x abc] 5").fine("", "lindex [set x abc] 5");
         talk.fine("3", "string last b abcb 99").fine("-1", "string last {} abc").fine("-1", "string last b abcb -1").fine("1", "string last b abcb end-1").fine("-1", "string last abc {}");
@@ -50,11 +51,11 @@ public final class StringTest {
             {"", ""}, {"*", ""}, {"*", "abc"}, {"**", ""}, {"a*", "a"}, {"a*c", "abbc"}, {"*b*", "abc"}, {"a?c", "abc"}, {"*ab", "aab"}, {"*a*b*", "xaxbx"},
             {"[abc]", "b"}, {"[a-c]x", "bx"}, {"[a-c", "c"}, {"[-a]", "-"}, {"[a-]", "-"}, {"[a-", "-"}, {"\\*", "*"}, {"\\", "\\"}, {"a\\", "a\\"},
             {"[\\]]", "]"}, {"[a\\-c]", "-"}, {"[*]", "*"}, {"[?]", "?"}, {"[^a]", "^"}, {"[A-\\]]", "["}, {"[A-\\", "\\"}, {"[\\", "\\"}, {"]", "]"}, {"a]", "a]"},
-            {"[a-c-e]", "e"}, {"[a-c-e]", "-"}, {"[\\a-c]", "b"}, {"*[0-9]", "a1b2"}, {"*a?", "aab"}, {"[]a", "x", "0"},
+            {"[a-c-e]", "e"}, {"[a-c-e]", "-"}, {"[\\a-c]", "b"}, {"*[0-9]", "a1b2"}, {"[\\]]x", "]x"}, {"[a\\]b]c", "bc"}, {"[a-c", "b"}, {"[a-\\d", "c"}, {"[\\a", "a"}, {"[a\\", "\\"}, {"*a?", "aab"}, {"[]a", "x", "0"},
         };
         String[][] unfitting = {
             {"", "a"}, {"a", ""}, {"?", ""}, {"a*c", "abcd"}, {"[]", "]"}, {"[]", ""}, {"[]x]", "x"}, {"[c-a]", "b"}, {"[a\\-c]", "b"}, {"\\*", "a"}, {"\\?", "a"}, {"[", "["},
-            {"[a-c-e]", "d"}, {"*ab", "ba"}, {"ab", "AB"}, {"a*b*c", "acb"}, {"[a-c]", "d"}, {"*[", ""}, {"[]a", "a"}, {"[a-\\]]", "b"}, {"ab*ba", "aba"},
+            {"[a-c-e]", "d"}, {"*ab", "ba"}, {"ab", "AB"}, {"a*b*c", "acb"}, {"[a-c]", "d"}, {"*[", ""}, {"[]a", "a"}, {"[a-\\]]", "b"}, {"*x*", "abc"}, {"a*x*c", "abc"}, {"*a*c", "bc"}, {"[\\a", "\\"}, {"[a-\\d", "\\"}, {"[a-\\d", "-"}, {"ab*ba", "aba"},
         };
         Talk talk = new Talk();
         for (String[] pair : fitting) {
@@ -76,7 +77,7 @@ public final class StringTest {
     private static void integers() {
         Talk talk = new Talk();
         String[] good = {"0", "-0", "+7", "007", "9223372036854775807", "-9223372036854775808", "0x0", "0xfF", "-0x1", "+0x1", "0xFFFFFFFFFFFFFFFF", "0000000000000000000000001"};
-        String[] bad = {"", "-", "+", " 1", "1 ", "1a", "0x", "0X1", "0xg", "9223372036854775808", "-9223372036854775809", "0x10000000000000000", "--1", "1.0", "end", "1_0"};
+        String[] bad = {"", "-", "+", " 1", "1 ", "1a", "0x", "0X1", "0xg", "9223372036854775808", "-9223372036854775809", "0x10000000000000000", "--1", "1.0", "end", "1_0", "1:", "1/", "0x1G", "0x1@"};
         for (String text : good) {
             talk.fine("1", "string is integer {" + text + "}");
         }
@@ -91,7 +92,7 @@ public final class StringTest {
         Talk talk = new Talk();
         talk.fine("a 5 b", "format {a %d b} 5").fine("   5|5   |0005", "format %4d|%-4d|%04d 5 5 5").fine("-005|+005|+5| 5", "format {%04d|%+04d|%+d|% d} -5 5 5 5");
         talk.fine("+0 0", "format {%+d% d} 0 0").fine("0000", "format %04d 0").fine("0 0", "format {%x %d} 0 -0");
-        talk.fine("+5", "format {% +d} 5").fine("-5", "format {%+ d} -5").fine("ff FF 377", "format {%x %X %o} 255 255 255").fine("ffffffffffffffff", "format %x -1");
+        talk.fine("+5", "format {% +d} 5").fine("-5", "format {%+ d} -5").fine("ff FF 377", "format {%x %X %o} 255 255 255").fine("ffffffffffffffff", "format %x -1").fine("aA9", "format %x%X%x 10 10 9");
         talk.fine("1777777777777777777777", "format %o -1").fine("  ff|ff  |00ff", "format %4x|%-4x|%04x 255 255 255").fine("ff", "format {%+ x} 255").fine("00ff", "format %+04x 255");
         talk.fine("A|  A|A  |  A", "format %c|%3c|%-3c|%03c 65 65 65 65").fine("\0\u00ff", "format %c%c 256 -1").fine("ab|  ab|ab  |  ab", "format %s|%4s|%-4s|%04s ab ab ab ab");
         talk.fine("5    ", "format %-05d 5").fine("%", "format %%").fine("%", "format %-05%").fine("% 1", "format {%% %d} 1 2 3").fine("0", "format %o 0").fine("16", "format %d 0x10");
