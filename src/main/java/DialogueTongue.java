@@ -36,7 +36,10 @@ public final class DialogueTongue {
     private static final int MOST_CELLS = 1000000;
     /** Far above what the fuel of a run allows. */
     private static final int MOST_TURNS = 2000000000;
+    /** Far above what any loop over a text, or any command's words, can need. */
     private static final int MANY = 1000000;
+    private static final long LOWEST = 0x8000000000000000L;
+    private static final long HIGHEST = 0x7fffffffffffffffL;
     private static final String HEXADECIMAL = "0123456789abcdefABCDEF";
     /** The letters behind a backslash that stand for other bytes, and those bytes. */
     private static final String ESCAPED = "abtnvfr";
@@ -360,16 +363,16 @@ public final class DialogueTongue {
             long value = 0;
             for (int i = at; i < to; i++) {
                 int digit = row[i] - '0';
-                if (digit < 0 || digit > 9 || value < Long.MIN_VALUE / 10) {
+                if (digit < 0 || digit > 9 || value < LOWEST / 10) {
                     return false;
                 }
                 value *= 10;
-                if (value < Long.MIN_VALUE + digit) {
+                if (value < LOWEST + digit) {
                     return false;
                 }
                 value -= digit;
             }
-            if (!minus && value == Long.MIN_VALUE) {
+            if (!minus && value == LOWEST) {
                 return false;
             }
             number = minus ? value : -value;
@@ -393,7 +396,7 @@ public final class DialogueTongue {
             }
             number = count - 1 - back;
             if (back < 0 && number < 0) {
-                number = Long.MAX_VALUE;
+                number = HIGHEST;
             }
             return true;
         }
@@ -441,7 +444,7 @@ public final class DialogueTongue {
             if (stop >= pattern.to) {
                 return at == to;
             }
-            while (at >= 0 && stop < pattern.to) {
+            for (int turn = 0; turn < MANY && at >= 0 && stop < pattern.to; turn++) {
                 piece = stop + 1;
                 stop = pattern.pieceEnd(piece);
                 if (stop < pattern.to) {
@@ -456,7 +459,7 @@ public final class DialogueTongue {
         final int reach(View pattern) {
             int at = from;
             int piece = pattern.from;
-            while (at >= 0 && piece <= pattern.to) {
+            for (int turn = 0; turn < MANY && at >= 0 && piece <= pattern.to; turn++) {
                 int stop = pattern.pieceEnd(piece);
                 at = fit(pattern, piece, stop, at, to);
                 piece = stop + 1;
@@ -469,7 +472,7 @@ public final class DialogueTongue {
             for (int i = first; i <= last; i++) {
                 int at = i;
                 int token = piece;
-                while (token < stop && at < to && pattern.tokenFits(token, row[at])) {
+                for (int turn = 0; turn < MANY && token < stop && at < to && pattern.tokenFits(token, row[at]); turn++) {
                     token = pattern.tokenEnd(token);
                     at++;
                 }
@@ -482,7 +485,7 @@ public final class DialogueTongue {
 
         private int pieceEnd(int piece) {
             int at = piece;
-            while (at < to && row[at] != '*') {
+            for (int turn = 0; turn < MANY && at < to && row[at] != '*'; turn++) {
                 at = tokenEnd(at);
             }
             return at;
@@ -490,10 +493,8 @@ public final class DialogueTongue {
 
         private int pieceLength(int piece) {
             int size = 0;
-            int at = piece;
-            while (at < to && row[at] != '*') {
+            for (int at = piece; size < MANY && at < to && row[at] != '*'; size++) {
                 at = tokenEnd(at);
-                size++;
             }
             return size;
         }
@@ -750,6 +751,10 @@ public final class DialogueTongue {
             return c == ' ' || c >= 9 && c <= 13;
         }
 
+        private static boolean closes(char c, boolean quoted) {
+            return quoted ? c == '"' : parts(c);
+        }
+
         /** Adds the element that begins here; the place behind it, or NONE if it can't be read. */
         int take(View list, int from) {
             char c = list.row[from];
@@ -758,7 +763,7 @@ public final class DialogueTongue {
             if (c == '{') {
                 at = takeBraces(list, from);
             } else {
-                while (at < list.to && (quoted ? list.row[at] != '"' : !parts(list.row[at]))) {
+                for (int turn = 0; turn < MANY && at < list.to && !closes(list.row[at], quoted); turn++) {
                     at = takeByte(list, at);
                 }
                 if (quoted) {
@@ -854,7 +859,7 @@ public final class DialogueTongue {
         /** Behind blanks and newlines, as they may stand in expressions. */
         int gap(int from) {
             int at = blanks(from);
-            while (at < end && text.row[at] == '\n') {
+            for (int turn = 0; turn < MANY && at < end && text.row[at] == '\n'; turn++) {
                 at = blanks(at + 1);
             }
             return at;
@@ -863,8 +868,13 @@ public final class DialogueTongue {
         /** Where the next command begins, behind comments and commands without words. */
         int beginning(int from) {
             int at = blanks(from);
-            while (at < end && (text.row[at] == '\n' || text.row[at] == ';' || text.row[at] == '#')) {
-                at = blanks(text.row[at] == '#' ? commentEnd(at) : at + 1);
+            boolean passes = true;
+            for (int turn = 0; turn < MANY && at < end && passes; turn++) {
+                char c = text.row[at];
+                passes = c == '\n' || c == ';' || c == '#';
+                if (passes) {
+                    at = blanks(c == '#' ? commentEnd(at) : at + 1);
+                }
             }
             return at;
         }
@@ -888,7 +898,7 @@ public final class DialogueTongue {
 
         int command(int from, boolean inner, int depth) {
             int at = from;
-            while (at >= 0 && !closes(at, inner)) {
+            for (int turn = 0; turn < MANY && at >= 0 && !closes(at, inner); turn++) {
                 at = word(at, inner, depth);
                 if (at >= 0) {
                     at = blanks(at);
@@ -906,7 +916,7 @@ public final class DialogueTongue {
                 return parted(enclosed(at + 1, '"', depth), inner, "extra characters after close-quote");
             }
             int next = at;
-            while (next >= 0 && !closes(next, inner) && blanks(next) == next) {
+            for (int turn = 0; turn < MANY && next >= 0 && !closes(next, inner) && blanks(next) == next; turn++) {
                 next = part(next, depth);
             }
             return next;
@@ -934,7 +944,7 @@ public final class DialogueTongue {
         /** Behind quotes or an index, of which this is the first byte within. */
         private int enclosed(int from, char closer, int depth) {
             int at = from;
-            while (at >= 0 && at < end && text.row[at] != closer) {
+            for (int turn = 0; turn < MANY && at >= 0 && at < end && text.row[at] != closer; turn++) {
                 at = part(at, depth);
             }
             if (at >= end) {
@@ -999,7 +1009,7 @@ public final class DialogueTongue {
                 return refuseDepth();
             }
             int at = beginning(from + 1);
-            while (at >= 0 && at < end && text.row[at] != ']') {
+            for (int turn = 0; turn < MANY && at >= 0 && at < end && text.row[at] != ']'; turn++) {
                 at = command(at, true, depth + 1);
                 if (at >= 0) {
                     at = beginning(at);
@@ -1034,7 +1044,7 @@ public final class DialogueTongue {
         int chain(int from, int depth, int strength) {
             int at = operandAndGap(from, depth);
             int operator = operator(at);
-            while (at >= 0 && operator != 0 && Sums.strength(operator) > strength) {
+            for (int turn = 0; turn < MANY && at >= 0 && operator != 0 && Sums.strength(operator) > strength; turn++) {
                 at = operandAndGap(at + Sums.width(operator), depth);
                 operator = operator(at);
             }
@@ -1048,7 +1058,7 @@ public final class DialogueTongue {
 
         private int operand(int from, int depth) {
             int at = gap(from);
-            while (at < end && sign(at) != 0) {
+            for (int turn = 0; turn < MANY && at < end && sign(at) != 0; turn++) {
                 at = gap(at + 1);
             }
             if (at >= end) {
@@ -1563,7 +1573,8 @@ public final class DialogueTongue {
         int nested;
         final View[] words = new View[MOST_WORDS];
         int count;
-        Verb verb;
+        /** The command that is to be performed. */
+        Verb verb = Verb.SET;
         private final View scratch;
 
         Machine(Text bytes, Reader reader) {
@@ -1775,7 +1786,7 @@ public final class DialogueTongue {
             boolean inner = cells[base + INNER] == 1;
             reader.end = cells[base + END];
             int at = reader.blanks(cells[base + AT]);
-            while (!reader.closes(at, inner) && bytes.row[at] == '{') {
+            for (int turn = 0; turn < MANY && !reader.closes(at, inner) && bytes.row[at] == '{'; turn++) {
                 at = reader.blanks(copyBraces(at));
                 addWord();
             }
@@ -1795,7 +1806,7 @@ public final class DialogueTongue {
         int copyBraces(int from) {
             int behind = reader.braces(from);
             int at = from + 1;
-            while (at < behind - 1) {
+            for (int turn = 0; turn < MANY && at < behind - 1; turn++) {
                 char c = bytes.row[at];
                 if (c != '\\') {
                     bytes.add(c);
@@ -1840,10 +1851,11 @@ public final class DialogueTongue {
             }
             cells[base + STATE] = NEW;
             lookAtWords();
-            verb = Verb.named(words[0], 0);
-            if (verb != null && verb.takes(count - 1)) {
-                cells[base + KIND] = verb.family;
-            } else if (verb != null) {
+            Verb found = Verb.named(words[0], 0);
+            if (found != null && found.takes(count - 1)) {
+                verb = found;
+                cells[base + KIND] = found.family;
+            } else if (found != null) {
                 fail(WRONG_NUMBER, words[0]);
                 close();
             } else if (names.procedure(words[0]) >= 0) {
@@ -1878,7 +1890,7 @@ public final class DialogueTongue {
             int end = cells[base + END];
             reader.end = end;
             int at = cells[base + AT];
-            while (at < end && bytes.to - mark <= LONGEST && !phraseCloses(at)) {
+            for (int turn = 0; turn < MANY && at < end && bytes.to - mark <= LONGEST && !phraseCloses(at); turn++) {
                 char c = bytes.row[at];
                 if (c == '[') {
                     openScript(at + 1, end, true);
@@ -3500,7 +3512,7 @@ public final class DialogueTongue {
 
         private boolean isChoice() {
             int body = bodyOf(1);
-            while (body + 1 < machine.count && words[body + 1].is("elseif")) {
+            for (int turn = 0; turn < MANY && body + 1 < machine.count && words[body + 1].is("elseif"); turn++) {
                 body = bodyOf(body + 2);
             }
             int last = body + 1;
