@@ -1,5 +1,3 @@
-import java.util.NoSuchElementException;
-
 /** Promises 1 to 14 by their own words: the tape, the rules, and what is told of the latest run. */
 public final class FaceTest {
     public static void main(String[] args) {
@@ -12,24 +10,6 @@ public final class FaceTest {
         Talk.finish();
     }
 
-    private static boolean throwsOut(DialogueTongue tongue, int i) {
-        try {
-            tongue.outAt(i);
-            return false;
-        } catch (NoSuchElementException e) {
-            return true;
-        }
-    }
-
-    private static boolean throwsTold(DialogueTongue tongue, int i) {
-        try {
-            tongue.toldAt(i);
-            return false;
-        } catch (NoSuchElementException e) {
-            return true;
-        }
-    }
-
     private static void newObject() {
         DialogueTongue tongue = new DialogueTongue();
         Talk.check("NONE", DialogueTongue.NONE, -1);
@@ -39,8 +19,8 @@ public final class FaceTest {
         Talk.check("clock of a new object", tongue.clock(), 0L);
         Talk.check("rules of a new object", tongue.rules(), 0);
         Talk.check("live of a new object", tongue.live(), 0);
-        Talk.check("outAt(0) throws", throwsOut(tongue, 0), true);
-        Talk.check("toldAt(0) throws", throwsTold(tongue, 0), true);
+        Talk.check("outAt(0) throws", Talk.outThrows(tongue, 0), true);
+        Talk.check("toldAt(0) throws", Talk.toldThrows(tongue, 0), true);
         Talk.check("the tape is empty", tongue.end(1), false);
         Talk.check("the tape has 0 bytes", tongue.end(0), true);
         Talk.check("an empty run", tongue.run(0), 0);
@@ -106,11 +86,11 @@ public final class FaceTest {
         }
         Talk.check("rule 64", talk.rule(0, "a", "b", 0, 0), -1);
         Talk.check("rules", talk.tongue.rules(), 64);
-        talk.tongue.clear();
+        talk.clear();
         Talk.check("rules", talk.tongue.rules(), 0);
         Talk.check("rule behind clear", talk.rule(0, "", "new", 0, 0), 0);
         talk.tells("\2new", "spawn; expect new {}");
-        talk.tongue.clear();
+        talk.clear();
         talk.tells("", "spawn; expect new {}");
     }
 
@@ -141,18 +121,18 @@ public final class FaceTest {
         Talk.check("outAt(0)", talk.tongue.outAt(0), 255);
         Talk.check("outAt(1)", talk.tongue.outAt(1), 0);
         Talk.check("outAt(2)", talk.tongue.outAt(2), 122);
-        Talk.check("outAt(3) throws", throwsOut(talk.tongue, 3), true);
-        Talk.check("outAt(-1) throws", throwsOut(talk.tongue, -1), true);
-        Talk.check("outAt of the lowest throws", throwsOut(talk.tongue, Integer.MIN_VALUE), true);
+        Talk.check("outAt(3) throws", Talk.outThrows(talk.tongue, 3), true);
+        Talk.check("outAt(-1) throws", Talk.outThrows(talk.tongue, -1), true);
+        Talk.check("outAt of the lowest throws", Talk.outThrows(talk.tongue, Integer.MIN_VALUE), true);
         Talk.check("told", talk.tongue.told(), 4);
         Talk.check("toldAt(0)", talk.tongue.toldAt(0), 3);
         Talk.check("toldAt(3)", talk.tongue.toldAt(3), 10);
-        Talk.check("toldAt(4) throws", throwsTold(talk.tongue, 4), true);
-        Talk.check("toldAt(-1) throws", throwsTold(talk.tongue, -1), true);
-        Talk.check("toldAt of the highest throws", throwsTold(talk.tongue, Integer.MAX_VALUE), true);
+        Talk.check("toldAt(4) throws", Talk.toldThrows(talk.tongue, 4), true);
+        Talk.check("toldAt(-1) throws", Talk.toldThrows(talk.tongue, -1), true);
+        Talk.check("toldAt of the highest throws", Talk.toldThrows(talk.tongue, Integer.MAX_VALUE), true);
         talk.run("");
-        Talk.check("outAt(0) throws", throwsOut(talk.tongue, 0), true);
-        Talk.check("toldAt(0) throws", throwsTold(talk.tongue, 0), true);
+        Talk.check("outAt(0) throws", Talk.outThrows(talk.tongue, 0), true);
+        Talk.check("toldAt(0) throws", Talk.toldThrows(talk.tongue, 0), true);
     }
 
     private static void clockAndFuel() {
