@@ -176,7 +176,8 @@ public final class EdgeFaceTest {
         }
         Talk.check("rules", talk.tongue.rules(), 6);
         talk.fine("bd 1000", "spawn; set timeout 1000; send n31\\nd1000\\n; expect d {}; list $expect_out [clock]");
-        talk.tells("\1a\n", "spawn; send a\\n; expect a {}").tells("\1n31\nd1000\ns31\ns0\n\2b\2a\2a", "spawn; send n31\\nd1000\\ns31\\ns0\\n; expect aa {}");
+        talk.tells("\1a\n", "spawn; send a\\n; expect a {}")
+            .tells("\1n31\nd1000\ns31\ns0\n\2b\2a\2a", "spawn; send n31\\nd1000\\ns31\\ns0\\n; expect aa {}");
     }
 
     private static void ruleFull() {
@@ -280,7 +281,8 @@ public final class EdgeFaceTest {
         talk.fine("5", "set a 5").fine("0", "info exists a").fine("", "proc f {} {}").fine("", "info procs").fails("no such command: f", "f");
         talk.fine("", "spawn").fails("no peer", "send a").fails("no peer", "expect a {}");
         talk.tells("\3a\n", "puts a").tells("", "").fine("", "after 9").fine("0", "clock");
-        talk.fine("", "proc f {} {global a; upvar a b; set a 1; while 1 {g}}; proc g {} {error x}; catch f; list").fine("0 0", "list [info level] [info exists a]");
+        talk.fine("", "proc f {} {global a; upvar a b; set a 1; while 1 {g}}; proc g {} {error x}; catch f; list")
+            .fine("0 0", "list [info level] [info exists a]");
         Talk.check("fuel ends within procedures", talk.run("proc f {} {set v 1; f}; proc g {} {catch f; g}; g", 40), 5);
         talk.fine("0 0 {}", "list [info level] [info exists v] [info procs]");
     }
@@ -387,7 +389,8 @@ public final class EdgeFaceTest {
     }
 
     private static void nothingLive() {
-        Talk talk = Talk.about("live: How many texts and codes lie in memory but the latest run's result (0 between calls; rules and the tape don't count).");
+        Talk talk = Talk.about("live: How many texts and codes lie in memory but the latest run's result (0 between calls; rules and "
+            + "the tape don't count).");
         Talk.check("of a new object", talk.tongue.live(), 0);
         talk.rule(0, "", "abc", 0, 0);
         Talk.check("with a rule", talk.tongue.live(), 0);

@@ -46,14 +46,20 @@ public final class EdgeSumTest {
 
     private static void empty() {
         Talk talk = Talk.about("one that can't be, an empty one, too: bad expression: TEXT");
-        bad(talk, "", " ", "\n", "\t\\\n ", "()", "1 +", "+", "1 2", "(1", "1)", "(", ")", "1 ?", "1 ? 2", "1 ? 2 :", "1 ? : 2", "? 1 : 2", "1 : 2", "1,2", ",", "&&", "1 &&", "&& 1", "1 ||| 1", "1 = 1", "1 === 1", "1 <> 1", "1 ! 1", "1 ~ 1", "a", "abc", "true", ".5", "1.5", ";", "1;", "#", "1 # a", "]", "}", "'a'");
-        talk.fails("bad expression: ", "if {} {}").fails("bad expression: ", "while {} {}").fails("bad expression: ", "for {} {} {} {}").fails("bad expression: 1 2", "expr 1 2").fails("bad expression:  ", "expr {} {}").refuses("bad expression: 1 +", "set x 5; expr {1 +}", "5", "set x");
+        bad(talk, "", " ", "\n", "\t\\\n ", "()", "1 +", "+", "1 2", "(1", "1)", "(", ")", "1 ?", "1 ? 2", "1 ? 2 :", "1 ? : 2", "? 1 : 2", "1 : 2",
+            "1,2", ",", "&&", "1 &&", "&& 1", "1 ||| 1", "1 = 1", "1 === 1", "1 <> 1", "1 ! 1", "1 ~ 1", "a", "abc", "true", ".5", "1.5", ";", "1;",
+            "#", "1 # a", "]", "}", "'a'");
+        talk.fails("bad expression: ", "if {} {}").fails("bad expression: ", "while {} {}").fails("bad expression: ", "for {} {} {} {}")
+            .fails("bad expression: 1 2", "expr 1 2").fails("bad expression:  ", "expr {} {}")
+            .refuses("bad expression: 1 +", "set x 5; expr {1 +}", "5", "set x");
     }
 
     private static void readWhole() {
         Talk talk = Talk.about("EXPRESSIONS are read whole, brackets in them, too");
-        bad(talk, "\"a", "{a", "[set x", "[set x {a}b]", "[set x \"a]", "$a(1", "${a", "\"[\"", "[set x \"a\"b]", "\"$a(\"", "1 + [list", "{a}}", "\"a\"\"b\"", "$a$a", "[list][list]", "{a}b", "\"a\"1");
-        talk.tells("", "catch {expr {[puts a] + }}").tells("", "catch {expr {[puts a] + [puts b}}").tells("", "catch {expr {1 || (}}").tells("", "catch {expr {[puts a] ? 1}}");
+        bad(talk, "\"a", "{a", "[set x", "[set x {a}b]", "[set x \"a]", "$a(1", "${a", "\"[\"", "[set x \"a\"b]", "\"$a(\"", "1 + [list", "{a}}",
+            "\"a\"\"b\"", "$a$a", "[list][list]", "{a}b", "\"a\"1");
+        talk.tells("", "catch {expr {[puts a] + }}").tells("", "catch {expr {[puts a] + [puts b}}").tells("", "catch {expr {1 || (}}")
+            .tells("", "catch {expr {[puts a] ? 1}}");
     }
 
     private static String nest(String open, int times, String core, String close) {
@@ -61,14 +67,17 @@ public final class EdgeSumTest {
     }
 
     private static void depth() {
-        Talk talk = Talk.about("too deep: more than 8 brackets, INDEXES, parentheses, functions, and second and third parts of ? : within one another, the whole one counted, too");
-        String[][] parts = {{"(", "1", ")", "1"}, {"abs(", "1", ")", "1"}, {"max(0,", "1", ")", "1"}, {"min(", "1", ",9)", "1"}, {"[set x ", "1", "]", "1"}, {"1?", "9", ":0", "9"}, {"0?1:", "9", "", "9"}, {"-(", "0", ")", "0"}, {"0||(", "1", ")", "1"}};
+        Talk talk = Talk.about("too deep: more than 8 brackets, INDEXES, parentheses, functions, and second and third parts of ? : "
+            + "within one another, the whole one counted, too");
+        String[][] parts = {{"(", "1", ")", "1"}, {"abs(", "1", ")", "1"}, {"max(0,", "1", ")", "1"}, {"min(", "1", ",9)", "1"}, {"[set x ", "1", "]",
+            "1"}, {"1?", "9", ":0", "9"}, {"0?1:", "9", "", "9"}, {"-(", "0", ")", "0"}, {"0||(", "1", ")", "1"}};
         for (String[] part : parts) {
             is(talk, part[3], nest(part[0], 7, part[1], part[2]));
             fails(talk, "too deep", nest(part[0], 8, part[1], part[2]));
             fails(talk, "too deep", nest(part[0], 9, part[1], part[2]));
         }
-        talk.fine("5", "set c(5) 5; expr {" + nest("$c(", 7, "5", ")") + "}").fails("too deep", "set c(5) 5; expr {" + nest("$c(", 8, "5", ")") + "}").refuses("too deep", "expr {" + nest("(", 8, "1", ")") + "}", "7", "expr {" + nest("(", 7, "7", ")") + "}");
+        talk.fine("5", "set c(5) 5; expr {" + nest("$c(", 7, "5", ")") + "}").fails("too deep", "set c(5) 5; expr {" + nest("$c(", 8, "5", ")") + "}")
+            .refuses("too deep", "expr {" + nest("(", 8, "1", ")") + "}", "7", "expr {" + nest("(", 7, "7", ")") + "}");
         fails(talk, "too deep", "(".repeat(8));
         bad(talk, "(".repeat(7));
         is(talk, "1", "0 || ".repeat(100) + "1");
@@ -95,8 +104,11 @@ public final class EdgeSumTest {
     }
 
     private static void orderOfOperators() {
-        Talk talk = Talk.about("From the weakest on: c ? x : y ; || ; && ; | ; ^ ; & ; == != eq ne ; < <= > >= ; << >> ; + - ; * / % ; the signs");
-        String[][] sums = {{"5", "0||0?4:5"}, {"1", "1||0&&0"}, {"1", "1&&2|0"}, {"3", "2|3^2"}, {"3", "1^3&2"}, {"0", "3&2==3"}, {"1", "1==2<3"}, {"1", "1<1<<1"}, {"8", "1<<1+2"}, {"7", "1+2*3"}, {"-6", "-2*3"}, {"1", "!0+0"}, {"-2", "~0-1"}, {"1", "2!=1>2"}, {"0", "1 eq 2 < 3 == 0"}, {"2", "7-4-1"}, {"1", "8/4/2"}, {"4", "2*7%3*2"}, {"15", "1+2<<1|1&3|9"}};
+        Talk talk = Talk.about("From the weakest on: c ? x : y ; || ; && ; | ; ^ ; & ; == != eq ne ; < <= > >= ; << >> ; + - ; * / % ; "
+            + "the signs");
+        String[][] sums = {{"5", "0||0?4:5"}, {"1", "1||0&&0"}, {"1", "1&&2|0"}, {"3", "2|3^2"}, {"3", "1^3&2"}, {"0", "3&2==3"}, {"1", "1==2<3"},
+            {"1", "1<1<<1"}, {"8", "1<<1+2"}, {"7", "1+2*3"}, {"-6", "-2*3"}, {"1", "!0+0"}, {"-2", "~0-1"}, {"1", "2!=1>2"}, {"0",
+            "1 eq 2 < 3 == 0"}, {"2", "7-4-1"}, {"1", "8/4/2"}, {"4", "2*7%3*2"}, {"15", "1+2<<1|1&3|9"}};
         for (String[] sum : sums) {
             is(talk, sum[0], sum[1]);
         }
@@ -122,7 +134,8 @@ public final class EdgeSumTest {
     }
 
     private static void numbers() {
-        Talk talk = Talk.about("integers that begin with a digit (with all A .. Z, a .. z, digits, _ behind; what is none then: bad expression: TEXT)");
+        Talk talk = Talk.about("integers that begin with a digit (with all A .. Z, a .. z, digits, _ behind; what is none then: bad "
+            + "expression: TEXT)");
         is(talk, HIGHEST, HIGHEST);
         is(talk, "0xffffffffffffffff", "0xffffffffffffffff");
         is(talk, "-1", "0xffffffffffffffff+0");
@@ -131,7 +144,8 @@ public final class EdgeSumTest {
         is(talk, "0x1F", "0x1F");
         is(talk, "4", "1+3");
         is(talk, "1", "1 eq 1");
-        bad(talk, "9223372036854775808", "-9223372036854775808", "99999999999999999999", "0x", "0x10000000000000000", "0X1", "12a", "1_", "0xg", "1eq1", "1eq 1", "0x1z", "1A", "1ne2", "00x1", "1Z", "1a");
+        bad(talk, "9223372036854775808", "-9223372036854775808", "99999999999999999999", "0x", "0x10000000000000000", "0X1", "12a", "1_", "0xg",
+            "1eq1", "1eq 1", "0x1z", "1A", "1ne2", "00x1", "1Z", "1a");
     }
 
     private static void quotesAndBraces() {
@@ -182,7 +196,8 @@ public final class EdgeSumTest {
         is(talk, LOWEST_TEXT, "min(" + LOWEST + "," + HIGHEST + ")");
         is(talk, HIGHEST, "max(" + LOWEST + "," + HIGHEST + ")");
         is(talk, "3", "max(1 ? 2 : 9, 3)");
-        bad(talk, "abs", "abs()", "abs(1,2)", "min(1)", "min()", "min(1,)", "min(,1)", "min(1,2,3)", "max(1)", "max(1,2,3)", "abs 1", "abs(1", "min(1,2", "Abs(1)", "ABS(1)", "abs1(1)", "absx(1)", "ab(1)", "mid(1,2)", "(1,2)", "(1)(2)", "abs[1]", "min");
+        bad(talk, "abs", "abs()", "abs(1,2)", "min(1)", "min()", "min(1,)", "min(,1)", "min(1,2,3)", "max(1)", "max(1,2,3)", "abs 1", "abs(1",
+            "min(1,2", "Abs(1)", "ABS(1)", "abs1(1)", "absx(1)", "ab(1)", "mid(1,2)", "(1,2)", "(1)(2)", "abs[1]", "min");
         fails(talk, "not an integer: abc", "abs($b)");
         fails(talk, "not an integer: abc", "min($b,\"x\")");
         fails(talk, "not an integer: x", "max(1,\"x\")");
@@ -206,14 +221,20 @@ public final class EdgeSumTest {
     private static void workedOut() {
         Talk talk = Talk.about("Operands are worked out from the left, both ahead of being asked as integers");
         for (String operator : new String[] {"+", "-", "*", "/", "%", "<<", ">>", "&", "|", "^"}) {
-            talk.tells("\3a\n\3b\n", "expr {[puts a] " + operator + " [puts b]}").fails("not an integer: x", "expr {\"x\" " + operator + " \"y\"}").fails("not an integer: y", "expr {1 " + operator + " \"y\"}").fails("no such variable: n", "expr {\"x\" " + operator + " $n}");
+            talk.tells("\3a\n\3b\n", "expr {[puts a] " + operator + " [puts b]}").fails("not an integer: x", "expr {\"x\" " + operator + " \"y\"}")
+                .fails("not an integer: y", "expr {1 " + operator + " \"y\"}").fails("no such variable: n", "expr {\"x\" " + operator + " $n}");
         }
-        talk.tells("\3a\n\3b\n", "expr {min([puts a], [puts b])}").tells("\3a\n", "expr {-[puts a] + [puts b]}").tells("\3a\n\3b\n", "expr {[puts a] + [puts b] + [puts c]}").fails("not an integer: y", "expr {\"x\" + 1 * \"y\"}").fails("divided by zero", "expr {\"x\" + 1 / 0}");
+        talk.tells("\3a\n\3b\n", "expr {min([puts a], [puts b])}").tells("\3a\n", "expr {-[puts a] + [puts b]}")
+            .tells("\3a\n\3b\n", "expr {[puts a] + [puts b] + [puts c]}").fails("not an integer: y", "expr {\"x\" + 1 * \"y\"}")
+            .fails("divided by zero", "expr {\"x\" + 1 / 0}");
     }
 
     private static void needed() {
         Talk talk = Talk.about("of || && ? : only what is needed");
-        talk.tells("\3a\n", "expr {[puts a; format 1] || [puts b; format 1]}").tells("\3a\n", "expr {[puts a; format 0] && [puts b]}").tells("\3a\n\3b\n", "expr {[puts a; format 0] || [puts b; format 1] || [puts c]}").tells("\3a\n\3b\n", "expr {[puts a; format 1] ? [puts b] : [puts c]}").tells("\3a\n\3c\n", "expr {[puts a; format 0] ? [puts b] : [puts c]}");
+        talk.tells("\3a\n", "expr {[puts a; format 1] || [puts b; format 1]}").tells("\3a\n", "expr {[puts a; format 0] && [puts b]}")
+            .tells("\3a\n\3b\n", "expr {[puts a; format 0] || [puts b; format 1] || [puts c]}")
+            .tells("\3a\n\3b\n", "expr {[puts a; format 1] ? [puts b] : [puts c]}")
+            .tells("\3a\n\3c\n", "expr {[puts a; format 0] ? [puts b] : [puts c]}");
         is(talk, "1", "1 || $nosuch");
         is(talk, "0", "0 && $nosuch");
         is(talk, "1", "1 || 0 && $nosuch");
@@ -231,8 +252,13 @@ public final class EdgeSumTest {
 
     private static void comparisons() {
         Talk talk = Talk.about("== != < <= > >= compare integers, if both are, else bytes; eq ne bytes");
-        String[][] sums = {{"1", "0x10 == 16"}, {"0", "0x10 eq 16"}, {"1", "0x10 ne 16"}, {"1", "\"+1\" == 1"}, {"0", "\"1 \" == 1"}, {"1", "10 > 9"}, {"0", "\"10\" < \"9\""}, {"1", "\"10\" < \"9x\""}, {"1", "\"\" == \"\""}, {"1", "\"\" < 0"}, {"0", "\"\" == 0"}, {"1", "\"a\" < \"b\""}, {"1", "\"a\" < \"ab\""},
-            {"1", "\"a\" <= \"a\""}, {"1", "\"a\" >= \"a\""}, {"0", "\"a\" > \"a\""}, {"0", "\"a\" < \"a\""}, {"1", "2 <= 2"}, {"0", "3 <= 2"}, {"1", "2 >= 2"}, {"0", "1 >= 2"}, {"0", "2 < 2"}, {"0", "2 > 2"}, {"1", "-1 < 0"}, {"1", LOWEST + " < " + HIGHEST}, {"1", "0xffffffffffffffff < 0"}, {"1", "\"9223372036854775808\" > 1"}, {"1", "\"10000000000000000000\" < 9"}, {"1", "\"-\" < 0"}, {"1", "\"\u00ff\" > \"a\""}, {"1", "\"a\" ne \"A\""}, {"0", "\"a\" eq \"A\""}, {"1", "\"-0\" == 0"}, {"0", "\"-0\" eq 0"}};
+        String[][] sums = {{"1", "0x10 == 16"}, {"0", "0x10 eq 16"}, {"1", "0x10 ne 16"}, {"1", "\"+1\" == 1"}, {"0", "\"1 \" == 1"}, {"1", "10 > 9"},
+            {"0", "\"10\" < \"9\""}, {"1", "\"10\" < \"9x\""}, {"1", "\"\" == \"\""}, {"1", "\"\" < 0"}, {"0", "\"\" == 0"}, {"1", "\"a\" < \"b\""},
+            {"1", "\"a\" < \"ab\""},
+            {"1", "\"a\" <= \"a\""}, {"1", "\"a\" >= \"a\""}, {"0", "\"a\" > \"a\""}, {"0", "\"a\" < \"a\""}, {"1", "2 <= 2"}, {"0", "3 <= 2"}, {"1",
+                "2 >= 2"}, {"0", "1 >= 2"}, {"0", "2 < 2"}, {"0", "2 > 2"}, {"1", "-1 < 0"}, {"1", LOWEST + " < " + HIGHEST}, {"1",
+                "0xffffffffffffffff < 0"}, {"1", "\"9223372036854775808\" > 1"}, {"1", "\"10000000000000000000\" < 9"}, {"1", "\"-\" < 0"}, {"1",
+                "\"\u00ff\" > \"a\""}, {"1", "\"a\" ne \"A\""}, {"0", "\"a\" eq \"A\""}, {"1", "\"-0\" == 0"}, {"0", "\"-0\" eq 0"}};
         for (String[] sum : sums) {
             is(talk, sum[0], sum[1]);
         }
@@ -245,7 +271,8 @@ public final class EdgeSumTest {
             fails(talk, "not an integer: ", sign + "{}");
         }
         for (String text : new String[] {"", " ", "1 ", "a", "1.5", "9223372036854775808", "0x", "end"}) {
-            talk.fails("not an integer: " + text, "expr {\"" + text + "\" + 1}").fails("not an integer: " + text, "expr {1 * \"" + text + "\"}").fails("not an integer: " + text, "expr {\"" + text + "\" ? 1 : 2}").fails("not an integer: " + text, "expr {1 && \"" + text + "\"}");
+            talk.fails("not an integer: " + text, "expr {\"" + text + "\" + 1}").fails("not an integer: " + text, "expr {1 * \"" + text + "\"}")
+                .fails("not an integer: " + text, "expr {\"" + text + "\" ? 1 : 2}").fails("not an integer: " + text, "expr {1 && \"" + text + "\"}");
         }
     }
 
@@ -268,8 +295,11 @@ public final class EdgeSumTest {
 
     private static void divisions() {
         Talk talk = Talk.about("/ % go downwards (by 0: divided by zero)");
-        String[][] sums = {{"3", "7 / 2"}, {"-4", "-7 / 2"}, {"-4", "7 / -2"}, {"3", "-7 / -2"}, {"1", "7 % 2"}, {"1", "-7 % 2"}, {"-1", "7 % -2"}, {"-1", "-7 % -2"}, {"0", "6 % 3"}, {"0", "-6 % 3"}, {"-2", "-6 / 3"}, {"0", "0 / 5"}, {"0", "0 % -5"}, {"-1", "-1 / " + HIGHEST}, {"0", "1 / 2"}, {"-1", "-1 / 2"}, {"-1", "1 / -2"},
-            {LOWEST_TEXT, LOWEST + " / -1"}, {"0", LOWEST + " % -1"}, {LOWEST_TEXT, LOWEST + " / 1"}, {"9223372036854775806", "-1 % " + HIGHEST}, {"-9223372036854775807", "1 % " + LOWEST}};
+        String[][] sums = {{"3", "7 / 2"}, {"-4", "-7 / 2"}, {"-4", "7 / -2"}, {"3", "-7 / -2"}, {"1", "7 % 2"}, {"1", "-7 % 2"}, {"-1", "7 % -2"},
+            {"-1", "-7 % -2"}, {"0", "6 % 3"}, {"0", "-6 % 3"}, {"-2", "-6 / 3"}, {"0", "0 / 5"}, {"0", "0 % -5"}, {"-1", "-1 / " + HIGHEST}, {"0",
+            "1 / 2"}, {"-1", "-1 / 2"}, {"-1", "1 / -2"},
+            {LOWEST_TEXT, LOWEST + " / -1"}, {"0", LOWEST + " % -1"}, {LOWEST_TEXT, LOWEST + " / 1"}, {"9223372036854775806", "-1 % " + HIGHEST},
+                {"-9223372036854775807", "1 % " + LOWEST}};
         for (String[] sum : sums) {
             is(talk, sum[0], sum[1]);
         }
@@ -281,7 +311,10 @@ public final class EdgeSumTest {
 
     private static void shifts() {
         Talk talk = Talk.about("counts of shifts below 0: negative shift, above 63: all out (of >> 0, or -1 below 0)");
-        String[][] sums = {{"5", "5 << 0"}, {"5", "5 >> 0"}, {LOWEST_TEXT, "1 << 63"}, {"0", "1 << 64"}, {"0", "-1 << 64"}, {"0", "1 << 65"}, {"0", "1 << " + HIGHEST}, {"0", "1 << 4294967296"}, {"0", HIGHEST + " >> 63"}, {"1", HIGHEST + " >> 62"}, {"-1", LOWEST + " >> 63"}, {"-2", LOWEST + " >> 62"}, {"0", HIGHEST + " >> 64"}, {"-1", "-1 >> 64"}, {"-1", LOWEST + " >> 64"}, {"-1", "-5 >> " + HIGHEST}, {"0", "5 >> 4294967297"}, {"-3", "-5 >> 1"}, {"0", "0 >> 99"}};
+        String[][] sums = {{"5", "5 << 0"}, {"5", "5 >> 0"}, {LOWEST_TEXT, "1 << 63"}, {"0", "1 << 64"}, {"0", "-1 << 64"}, {"0", "1 << 65"}, {"0",
+            "1 << " + HIGHEST}, {"0", "1 << 4294967296"}, {"0", HIGHEST + " >> 63"}, {"1", HIGHEST + " >> 62"}, {"-1", LOWEST + " >> 63"}, {"-2",
+            LOWEST + " >> 62"}, {"0", HIGHEST + " >> 64"}, {"-1", "-1 >> 64"}, {"-1", LOWEST + " >> 64"}, {"-1", "-5 >> " + HIGHEST}, {"0",
+            "5 >> 4294967297"}, {"-3", "-5 >> 1"}, {"0", "0 >> 99"}};
         for (String[] sum : sums) {
             is(talk, sum[0], sum[1]);
         }
@@ -292,18 +325,22 @@ public final class EdgeSumTest {
 
     private static void truths() {
         Talk talk = Talk.about("A truth is 1 or 0; what is asked as one is an integer, true if it isn't 0.");
-        String[][] sums = {{"1", "5 || 0"}, {"1", "0 || -5"}, {"0", "0 || 0"}, {"1", "5 && 7"}, {"0", "5 && 0"}, {"0", "0 && 5"}, {"0", "!5"}, {"1", "!0"}, {"1", "!!5"}, {"1", "\"0x1\" && \"+1\""}, {"0", "\"-0\" || \"00\""}, {"7", "-1 ? 7 : 8"}, {"8", "0x0 ? 7 : 8"}, {"1", LOWEST + " && 1"}, {"1", "4294967296 && 1"}};
+        String[][] sums = {{"1", "5 || 0"}, {"1", "0 || -5"}, {"0", "0 || 0"}, {"1", "5 && 7"}, {"0", "5 && 0"}, {"0", "0 && 5"}, {"0", "!5"}, {"1",
+            "!0"}, {"1", "!!5"}, {"1", "\"0x1\" && \"+1\""}, {"0", "\"-0\" || \"00\""}, {"7", "-1 ? 7 : 8"}, {"8", "0x0 ? 7 : 8"}, {"1",
+            LOWEST + " && 1"}, {"1", "4294967296 && 1"}};
         for (String[] sum : sums) {
             is(talk, sum[0], sum[1]);
         }
         fails(talk, "not an integer: true", "\"true\" || 1");
         fails(talk, "not an integer: ", "\"\" ? 1 : 2");
-        talk.fine("y", "if 4294967296 {set x y} {set x n}").fine("n", "if \"-0\" {set x y} {set x n}").fails("not an integer: x", "if {\"x\"} {}").fails("not an integer: x", "while {\"x\"} {}").fails("not an integer: ", "if {[list]} {}");
+        talk.fine("y", "if 4294967296 {set x y} {set x n}").fine("n", "if \"-0\" {set x y} {set x n}").fails("not an integer: x", "if {\"x\"} {}")
+            .fails("not an integer: x", "while {\"x\"} {}").fails("not an integer: ", "if {[list]} {}");
     }
 
     private static void asItIs() {
         Talk talk = Talk.about("The result of an operand alone (in ( ), behind ? and : , too) is its text as it is.");
-        String[][] sums = {{"007", "007"}, {"007", "(007)"}, {"0x1F", "((0x1F))"}, {"007", "1 ? 007 : 8"}, {"007", "0 ? 8 : 007"}, {" a ", "\" a \""}, {"abc", "$b"}, {"", "{}"}, {"+5", "\"+5\""}, {"7", "+007"}, {"7", "007 + 0"}, {"7", "max(007, 1)"}, {"7", "abs(007)"}, {"1", "007 && 1"}};
+        String[][] sums = {{"007", "007"}, {"007", "(007)"}, {"0x1F", "((0x1F))"}, {"007", "1 ? 007 : 8"}, {"007", "0 ? 8 : 007"}, {" a ", "\" a \""},
+            {"abc", "$b"}, {"", "{}"}, {"+5", "\"+5\""}, {"7", "+007"}, {"7", "007 + 0"}, {"7", "max(007, 1)"}, {"7", "abs(007)"}, {"1", "007 && 1"}};
         for (String[] sum : sums) {
             is(talk, sum[0], sum[1]);
         }

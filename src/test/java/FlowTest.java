@@ -119,25 +119,32 @@ public final class FlowTest {
         talk.fails("wrong number of words: return", "return -code 1 b c").fine("2", "catch {return -code 3 x}");
         talk.fine("5", "proc f {} {return 5; set x 6}; f").fine("1 x", "proc f {} {return -code 1 x}; list [catch f m] $m");
         talk.fine("x", "proc f {} {return -code return x}; proc g {} {f; set y 1}; g").fine("x", "proc f {} {return -code 2 x}; f; set y 1");
-        talk.fine("2", "proc f {} {return -code 2 x}; catch f").fine("3", "proc f {} {return -code break}; catch f").fine("4", "proc f {} {return -code 4}; catch f");
+        talk.fine("2", "proc f {} {return -code 2 x}; catch f").fine("3", "proc f {} {return -code break}; catch f")
+            .fine("4", "proc f {} {return -code 4}; catch f");
         talk.fine("1", "proc f {} {return -code break}; set i 0; while 1 {incr i; f}; set i");
-        talk.fails("break outside of a loop", "proc f {} {return -code break}; f").fails("continue outside of a loop", "proc f {} {return -code 4}; f");
+        talk.fails("break outside of a loop", "proc f {} {return -code break}; f")
+            .fails("continue outside of a loop", "proc f {} {return -code 4}; f");
         talk.fine("7", "proc f {} {eval {return 7}; set x 8}; f").fine("7", "proc f {} {uplevel {return 7}; set x 8}; f");
-        talk.fine("7", "proc f {} {while 1 {return 7}; set x 8}; f").gives(3, "x", "eval {return -code 3 x}").gives(4, "", "while 1 {return -code 4}");
+        talk.fine("7", "proc f {} {while 1 {return 7}; set x 8}; f").gives(3, "x", "eval {return -code 3 x}")
+            .gives(4, "", "while 1 {return -code 4}");
         talk.fine("7", "proc f {} {set x [return 7]; set x 8}; f").fine("7", "proc f {} {catch {return -code 3}; return 7}; f");
     }
 
     private static void levels() {
         Talk talk = new Talk();
         talk.fine("6", "proc f {} {upvar x y; incr y}; set x 5; f; set x").fine("1", "proc f {} {upvar x y; set y 1}; f; set x");
-        talk.fine("1 2", "proc f {} {upvar a x b y; list $x $y}; set a 1; set b 2; f").fine("7", "proc f {} {upvar #0 a x; set x 7}; proc g {} f; g; set a");
+        talk.fine("1 2", "proc f {} {upvar a x b y; list $x $y}; set a 1; set b 2; f")
+            .fine("7", "proc f {} {upvar #0 a x; set x 7}; proc g {} f; g; set a");
         talk.fine("3", "proc f {} {upvar 2 a x; set x 3}; proc g {} f; g; set a").fine("5", "set a 5; upvar 0 a b; set b");
-        talk.fails("no such level: 1", "upvar a b").fails("no such level: 2", "proc f {} {upvar 2 a b}; f").fails("no such level: #2", "proc f {} {upvar #2 a b}; f");
+        talk.fails("no such level: 1", "upvar a b").fails("no such level: 2", "proc f {} {upvar 2 a b}; f")
+            .fails("no such level: #2", "proc f {} {upvar #2 a b}; f");
         talk.fails("no such level: x", "proc f {} {upvar x a b}; f").fails("no such level: -1", "proc f {} {upvar -1 a b}; f");
         talk.fails("wrong number of words: upvar", "upvar 1").fails("wrong number of words: upvar", "upvar");
         talk.fails("variable is there: y", "proc f {} {set y 1; upvar x y}; f").fine("", "set a 1; upvar 0 a a");
-        talk.fine("2", "proc f {} {upvar a z; upvar b z; set z}; set a 1; set b 2; f").fine("9", "proc f {} {upvar a y; upvar 0 y z; set z 9}; f; set a");
-        talk.fine("2", "set c 2; upvar 0 a b; upvar 0 b d; upvar 0 c b; list; set b").fails("no such variable: d", "set c 2; upvar 0 a b; upvar 0 b d; upvar 0 c b; set d");
+        talk.fine("2", "proc f {} {upvar a z; upvar b z; set z}; set a 1; set b 2; f")
+            .fine("9", "proc f {} {upvar a y; upvar 0 y z; set z 9}; f; set a");
+        talk.fine("2", "set c 2; upvar 0 a b; upvar 0 b d; upvar 0 c b; list; set b")
+            .fails("no such variable: d", "set c 2; upvar 0 a b; upvar 0 b d; upvar 0 c b; set d");
         talk.fine("4", "upvar 0 b a; upvar 0 c b; set a 4; set c").fine("", "upvar 0 b a; upvar 0 a b");
         talk.fine("0 1", "proc f {} {upvar x y; set r [info exists y]; set y 1; list $r [info exists y]}; f");
         talk.fine("0 5", "proc f {} {upvar x y; unset y; set r [info exists y]; set y 5; set r}; set x 1; list [f] $x");
@@ -147,12 +154,16 @@ public final class FlowTest {
         talk.fine("1 2", "proc f {} {global a b; list $a $b}; set a 1; set b 2; f");
         talk.fine("5z", "proc up {} {upvar x y; incr y; uplevel {append x z}}; set x 4; up; set x");
         talk.fine("3", "proc f {} {uplevel 1 set x 3}; f; set x").fine("3", "proc f {} {uplevel #0 {set x 3}}; proc g {} f; g; set x");
-        talk.fine("4", "proc f {} {uplevel 0 {set x 4}; set x}; f").fails("no such level: 1", "uplevel {set x 1}").fails("no such level: 3", "uplevel 3 x");
+        talk.fine("4", "proc f {} {uplevel 0 {set x 4}; set x}; f").fails("no such level: 1", "uplevel {set x 1}")
+            .fails("no such level: 3", "uplevel 3 x");
         talk.fails("no such command: 1", "proc f {} {uplevel 1}; f").fails("no such command: -1", "proc f {} {uplevel -1 x}; f");
         talk.fine("", "proc f {} {uplevel # x}; f").fails("no such level: 99999999999999999999", "uplevel 99999999999999999999 x");
-        talk.fine("0 1 2 0", "proc f {} {list [info level] [g] [uplevel {info level}]}; proc g {} {info level}; set r [f]; list [info level] [lindex $r 0] [lindex $r 1] [lindex $r 2]");
-        talk.fine("1", "proc f {} {uplevel #0 g}; proc g {} {info level}; proc h {} f; h").fine("5", "proc f {} {uplevel #0 g}; proc g {} {upvar x y; set y 5}; f; set x");
-        talk.fails("no such level: 1", "proc f {} {uplevel #0 {upvar x y}}; f").fine("a b c", "eval list a {b c}").fails("wrong number of words: eval", "eval");
+        talk.fine("0 1 2 0",
+            "proc f {} {list [info level] [g] [uplevel {info level}]}; proc g {} {info level}; set r [f]; list [info level] [lindex $r 0] [lindex $r 1] [lindex $r 2]");
+        talk.fine("1", "proc f {} {uplevel #0 g}; proc g {} {info level}; proc h {} f; h")
+            .fine("5", "proc f {} {uplevel #0 g}; proc g {} {upvar x y; set y 5}; f; set x");
+        talk.fails("no such level: 1", "proc f {} {uplevel #0 {upvar x y}}; f").fine("a b c", "eval list a {b c}")
+            .fails("wrong number of words: eval", "eval");
         talk.fails("wrong number of words: uplevel", "uplevel");
     }
 

@@ -36,23 +36,31 @@ public final class PeerTest {
         talk.fine("ok 2", "spawn; set timeout 2; expect login: {set r ok} timeout {set r late}; list $r [clock]");
         talk.fine("late 10", "spawn; expect nothing {set r ok} timeout {set r late}; list $r [clock]");
         talk.fine("10", "spawn; set timeout x; expect nothing {}; clock").fine("0", "spawn; set timeout -5; expect nothing {}; clock");
-        talk.fine("1000000", "spawn; set timeout 99999999999; expect nothing {}; clock").fine("3", "spawn; set t 3; upvar 0 t timeout; expect nothing {}; clock");
-        talk.fine("10", "proc f {} {set timeout 4; expect nothing {}; clock}; spawn; f").fine("a", "spawn; expect timeout {set x a} timeout {set x b}");
+        talk.fine("1000000", "spawn; set timeout 99999999999; expect nothing {}; clock")
+            .fine("3", "spawn; set t 3; upvar 0 t timeout; expect nothing {}; clock");
+        talk.fine("10", "proc f {} {set timeout 4; expect nothing {}; clock}; spawn; f")
+            .fine("a", "spawn; expect timeout {set x a} timeout {set x b}");
         talk.fine("", "spawn; expect [set x nothing] {set x a}").fine("ok", "spawn; send [set x bob]; spawn; expect login {set r ok}");
         talk.fine("", "spawn; expect nothing {set x a}").fine("5 ok", "spawn; after 5; set timeout 0; expect login {set r ok}; list [clock] $r");
-        talk.fine("5 late", "spawn; after 5; set timeout 0; expect nothing {set r ok} timeout {set r late}; list [clock] $r").tells("\2login: ", "spawn; after 5; set timeout 0; expect nothing {}");
-        talk.fine("0", "spawn; after 0; clock").fine("0", "after -3; clock").fine("1000000", "after 1000001; clock").fails("not an integer: x", "after x").fine("", "after 3").fine("0", "clock");
+        talk.fine("5 late", "spawn; after 5; set timeout 0; expect nothing {set r ok} timeout {set r late}; list [clock] $r")
+            .tells("\2login: ", "spawn; after 5; set timeout 0; expect nothing {}");
+        talk.fine("0", "spawn; after 0; clock").fine("0", "after -3; clock").fine("1000000", "after 1000001; clock")
+            .fails("not an integer: x", "after x").fine("", "after 3").fine("0", "clock");
         talk.tells("", "spawn; after 100").fine("break 2", "set r {}; spawn; while 1 {expect login break; set r x}; list break[set r] [clock]");
-        talk.fails("wrong number of words: clock", "clock x").fails("wrong number of words: after", "after").fails("wrong number of words: spawn", "spawn x");
+        talk.fails("wrong number of words: clock", "clock x").fails("wrong number of words: after", "after")
+            .fails("wrong number of words: spawn", "spawn x");
     }
 
     private static void buffer() {
         Talk talk = loginPeer();
         talk.fine("log in {: }", "spawn; expect log {set a $expect_out}; expect in {set b $expect_out}; expect {: } {set c $expect_out}; list $a $b $c");
         talk.fine("{} 0", "spawn; expect * {}; list $expect_out [clock]").fine("{} 0", "spawn; expect {} {}; list $expect_out [clock]");
-        talk.fine("l 2", "spawn; expect ? {}; list $expect_out [clock]").fine("login", "spawn; expect g*n {}; set expect_out").fine("login:", "spawn; expect {[m-o]*:*} {}; set expect_out");
-        talk.fine("b", "spawn; expect nothing {set r a} log {set r b} login {set r c}").fine("a 2", "spawn; set x x; expect login {set r a} l {set r b}; list $r [clock]");
-        talk.fails("no such variable: expect_out", "spawn; expect x {} timeout {set expect_out}").fine("login", "proc f {} {expect login {}}; spawn; f; set expect_out");
+        talk.fine("l 2", "spawn; expect ? {}; list $expect_out [clock]").fine("login", "spawn; expect g*n {}; set expect_out")
+            .fine("login:", "spawn; expect {[m-o]*:*} {}; set expect_out");
+        talk.fine("b", "spawn; expect nothing {set r a} log {set r b} login {set r c}")
+            .fine("a 2", "spawn; set x x; expect login {set r a} l {set r b}; list $r [clock]");
+        talk.fails("no such variable: expect_out", "spawn; expect x {} timeout {set expect_out}")
+            .fine("login", "proc f {} {expect login {}}; spawn; f; set expect_out");
         talk.fine("login: ", "spawn; upvar 0 {} expect_out; catch {expect login {}} m; unset m; upvar 0 o expect_out; expect {: } {}; set o");
         talk.fails("no such variable: ", "spawn; upvar 0 {} expect_out; expect login {}").fails("boo", "spawn; expect login {error boo}");
         Talk loud = new Talk();
@@ -68,7 +76,8 @@ public final class PeerTest {
         talk.rule(0, "also", "a", 5, 0);
         talk.rule(0, "none", "", 2, 0);
         talk.fine("fsa 5", "spawn; send slow\\nfast\\nalso\\n; expect a {}; list $expect_out [clock]");
-        talk.tells("\1slow\nfast\n\2f\2s", "spawn; send slow\\nfast\\n; expect nothing {}").tells("\1none\n\2", "spawn; send none\\n; expect nothing {}");
+        talk.tells("\1slow\nfast\n\2f\2s", "spawn; send slow\\nfast\\n; expect nothing {}")
+            .tells("\1none\n\2", "spawn; send none\\n; expect nothing {}");
         talk.tells("\1slow\n\1fast\n", "spawn; send slow\\n; spawn; send fast\\n; spawn; expect nothing {}");
         talk.fine("f 1", "spawn; send slow; spawn; send fast\\n; expect f {}; list $expect_out [clock]");
         talk.fine("all none", "spawn; for {set i 0} {$i < 70} {incr i} {send fast\\n}; expect [string repeat f 64] {set r all}; "
@@ -91,7 +100,8 @@ public final class PeerTest {
         full.rule(0, "x", "y", 0, 1);
         full.rule(1, "x", "y", 0, 0);
         full.rule(1, "q", "odd", 0, 1);
-        full.fine("yyyodd", "spawn; for {set i 0} {$i < 65} {incr i} {send x\\n}; expect {yyy} {}; set timeout 0; expect nothing {}; send q\\n; expect {yyyodd} {string range $expect_out end-5 end}");
+        full.fine("yyyodd",
+            "spawn; for {set i 0} {$i < 65} {incr i} {send x\\n}; expect {yyy} {}; set timeout 0; expect nothing {}; send q\\n; expect {yyyodd} {string range $expect_out end-5 end}");
         Talk line = new Talk();
         line.rule(0, "a*a", "fit", 0, 0);
         line.rule(0, "a*", "unfit", 0, 0);
@@ -101,8 +111,10 @@ public final class PeerTest {
 
     private static void errors() {
         Talk talk = loginPeer();
-        talk.fails("no peer", "send x").fails("no peer", "expect x {}").fails("wrong number of words: expect", "expect").fails("wrong number of words: expect", "expect x");
-        talk.fails("wrong number of words: expect", "spawn; expect x {} timeout").fails("wrong number of words: send", "send").fails("wrong number of words: puts", "puts a b");
+        talk.fails("no peer", "send x").fails("no peer", "expect x {}").fails("wrong number of words: expect", "expect")
+            .fails("wrong number of words: expect", "expect x");
+        talk.fails("wrong number of words: expect", "spawn; expect x {} timeout").fails("wrong number of words: send", "send")
+            .fails("wrong number of words: puts", "puts a b");
         talk.tells("", "catch {send x}");
     }
 

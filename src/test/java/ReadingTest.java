@@ -33,7 +33,8 @@ public final class ReadingTest {
         Talk talk = new Talk();
         talk.fine("5", "set a 5; set b $a").fine("x5y", "set a 5; set b x${a}y");
         talk.fine("$", "set a $").fine("$ $- a$", "set a \"$ $- a$\"").fine("$(x)", "set a $(x)");
-        talk.fine("1", "set azAZ09_ 1; set x $azAZ09_").fine("1@", "set z 1; set x $z@").fine("1[", "set Z 1; set x $Z\\[").fine("1:/`{", "set a9 1; set x $a9:/`\\{");
+        talk.fine("1", "set azAZ09_ 1; set x $azAZ09_").fine("1@", "set z 1; set x $z@").fine("1[", "set Z 1; set x $Z\\[")
+            .fine("1:/`{", "set a9 1; set x $a9:/`\\{");
         talk.fine("7", "set a_1Z 7; set b $a_1Z").fine("7-x", "set a 7; set b $a-x");
         talk.fine("v", "set a(b) v; set c $a(b)").fine("v", "set a(b) v; set b b; set c $a($b)");
         talk.fine("v", "set a(b) v; set c $a([set x b])").fine("v", "set {a(b c;\n])} v; set x $a(b c;\n])");
