@@ -425,9 +425,9 @@ public final class EdgeCommandTest {
             .fails("no such level: 1", "proc f {} {uplevel #0 {uplevel 1 {list}}}; f")
             .fails("no such level: #1", "proc f {} {uplevel #0 {upvar #1 a b}}; f");
         talk.fine("1", "proc f {} {set v 1; uplevel g; set v}; proc g {} {upvar v w; set w 2}; f")
-            .fine("2", "proc f {} {set v 1; uplevel g; set v}; proc g {} {upvar v w; set w 2}; f; set v")
-            .fine("0 1 2 1 0",
-                "proc f {} {global r; lappend r [info level]; g; lappend r [info level]}; proc g {} {global r; lappend r [info level]}; set r 0; f; lappend r [info level]");
+            .fine("2", "proc f {} {set v 1; uplevel g; set v}; proc g {} {upvar v w; set w 2}; f; set v");
+        talk.fine("0 1 2 1 0", "proc f {} {global r; lappend r [info level]; g; lappend r [info level]}; "
+            + "proc g {} {global r; lappend r [info level]}; set r 0; f; lappend r [info level]");
     }
 
     private static void catches() {

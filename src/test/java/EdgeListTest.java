@@ -50,12 +50,12 @@ public final class EdgeListTest {
 
     private static void ranges() {
         Talk talk = Talk.about("lrange, string range and replace are cut to what is there (nothing: empty; replace: x)");
-        String[][] edges = {{"0", "2", "abc"}, {"0", "3", "abc"}, {"-1", "2", "abc"}, {"-9", "9", "abc"}, {"0", "0", "a"}, {"2", "2", "c"}, {"2", "9",
-            "c"}, {"3", "9", ""}, {"3", "3", ""}, {"-9", "0", "a"}, {"-9", "-1", ""}, {"-1", "-1", ""}, {"1", "0", ""}, {"2", "1", ""}, {"0", "-1",
-            ""},
+        String[][] edges = {{"0", "2", "abc"}, {"0", "3", "abc"}, {"-1", "2", "abc"}, {"-9", "9", "abc"}, {"0", "0", "a"}, {"2", "2", "c"},
+            {"2", "9", "c"}, {"3", "9", ""}, {"3", "3", ""}, {"-9", "0", "a"}, {"-9", "-1", ""}, {"-1", "-1", ""}, {"1", "0", ""}, {"2", "1", ""},
+            {"0", "-1", ""},
             {"end", "end", "c"}, {"end-2", "end", "abc"}, {"end-3", "end", "abc"}, {"0", "end-3", ""}, {"0", "end-2", "a"}, {"end", "0", ""},
-                {"-9223372036854775808", "9223372036854775807", "abc"}, {"9223372036854775807", "-9223372036854775808", ""}, {"0",
-                "end-0xffffffffffffffff", "abc"}, {"end-0xffffffffffffffff", "9", ""}};
+                {"-9223372036854775808", "9223372036854775807", "abc"}, {"9223372036854775807", "-9223372036854775808", ""},
+                {"0", "end-0xffffffffffffffff", "abc"}, {"end-0xffffffffffffffff", "9", ""}};
         for (String[] edge : edges) {
             String listed = String.join(" ", edge[2].split(""));
             talk.fine(listed, "lrange {a b c} " + edge[0] + " " + edge[1]).fine(edge[2], "string range abc " + edge[0] + " " + edge[1]);

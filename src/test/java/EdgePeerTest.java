@@ -147,20 +147,19 @@ public final class EdgePeerTest {
         for (int times = 63; times <= 66; times++) {
             String script = "spawn; for {set i 0} {$i < " + times + "} {incr i} {send x\\n}; set timeout 1; expect @ {}; ";
             String all = "yz".repeat(33).substring(0, Math.min(times, 64));
-            talk.fine(all,
-                script + "expect " + all.substring(all.length() - 2) + " {append r $expect_out}; while {[string length $r] < " + all.length() + "} {expect ? {append r $expect_out} timeout {append r [string repeat - 99]}}; set r");
+            talk.fine(all + ".", script + "expect [string repeat ? " + all.length() + "] {set r $expect_out}; expect ? {append r +} timeout {append r .}");
             talk.fine(times % 2 == 0 ? "even" : "odd", script + "send q\\n; set timeout 0; expect odd {set x odd} even {set x even}");
         }
-        talk.fine("z",
-            "spawn; for {set i 0} {$i < 70} {incr i} {send x\\n}; expect y {}; for {set i 0} {$i < 64} {incr i} {expect ? {} timeout {set x none}}; send x\\n; send x\\n; expect y {}; expect z {set expect_out}");
+        String received = "spawn; for {set i 0} {$i < 70} {incr i} {send x\\n}; expect [string repeat ? 64] {}; ";
+        talk.fine("yz", received + "send x\\nx\\n; expect ?? {set expect_out}");
     }
 
     private static void timeouts() {
         Talk talk = Talk.about("the variable timeout of level 0 (of a link its other one's value; 10 when it is not there, or no "
             + "integer; else 0 .. 1000000, the nearest) says how many ticks it waits");
         String[][] values = {{"0", "0"}, {"1", "1"}, {"-1", "0"}, {"-9223372036854775808", "0"}, {"1000000", "1000000"}, {"1000001", "1000000"},
-            {"9223372036854775807", "1000000"}, {"9223372036854775808", "10"}, {"x", "10"}, {"{}", "10"}, {"0x10", "16"}, {"{ 5}", "10"}, {"+7",
-            "7"}};
+            {"9223372036854775807", "1000000"}, {"9223372036854775808", "10"}, {"x", "10"}, {"{}", "10"}, {"0x10", "16"}, {"{ 5}", "10"},
+            {"+7", "7"}};
         for (String[] value : values) {
             talk.fine(value[1], "spawn; set timeout " + value[0] + "; expect @ {}; clock")
                 .fine(value[1], "proc f {} {expect @ {}; clock}; spawn; set timeout " + value[0] + "; f")
@@ -209,13 +208,14 @@ public final class EdgePeerTest {
         Talk talk = Talk.about("taken is the shortest such beginning");
         talk.rule(0, "go", "ab1ab2ab3*", 0, 0);
         String[][] takings = {{"ab", "ab"}, {"a*b", "ab"}, {"b?", "ab1"}, {"a*3", "ab1ab2ab3"}, {"1*b", "ab1ab"}, {"ab*ab", "ab1ab"}, {"?", "a"},
-            {"???", "ab1"}, {"[0-9]", "ab1"}, {"[2-9]", "ab1ab2"}, {"*", ""}, {"b*", "ab"}, {"*b", "ab"}, {"\\*", "ab1ab2ab3*"}, {"3\\*",
-            "ab1ab2ab3*"}, {"a?a", "none"}, {"b3?", "ab1ab2ab3*"}, {"*b*2*", "ab1ab2"}, {"ab1ab2ab3?", "ab1ab2ab3*"}, {"ab1ab2ab3??", "none"}};
+            {"???", "ab1"}, {"[0-9]", "ab1"}, {"[2-9]", "ab1ab2"}, {"*", ""}, {"b*", "ab"}, {"*b", "ab"}, {"\\*", "ab1ab2ab3*"},
+            {"3\\*", "ab1ab2ab3*"}, {"a?a", "none"}, {"b3?", "ab1ab2ab3*"}, {"*b*2*", "ab1ab2"}, {"ab1ab2ab3?", "ab1ab2ab3*"},
+            {"ab1ab2ab3??", "none"}};
         for (String[] taking : takings) {
             talk.fine(taking[1], "spawn; send go\\n; expect b3xx {} timeout {}; expect " + Talk.word(taking[0]) + " {set expect_out} timeout {set x none}");
         }
-        talk.fine("ab 1ab 2 ab3*",
-            "spawn; send go\\n; expect b {lappend r $expect_out}; expect b {lappend r $expect_out}; expect ? {lappend r $expect_out}; expect \\\\* {lappend r $expect_out}");
+        String take = "{lappend r $expect_out}; ";
+        talk.fine("ab 1ab 2 ab3*", "spawn; send go\\n; expect b " + take + "expect b " + take + "expect ? " + take + "expect \\\\* " + take);
     }
 
     private static void emptyBeginning() {

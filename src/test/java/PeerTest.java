@@ -100,8 +100,8 @@ public final class PeerTest {
         full.rule(0, "x", "y", 0, 1);
         full.rule(1, "x", "y", 0, 0);
         full.rule(1, "q", "odd", 0, 1);
-        full.fine("yyyodd",
-            "spawn; for {set i 0} {$i < 65} {incr i} {send x\\n}; expect {yyy} {}; set timeout 0; expect nothing {}; send q\\n; expect {yyyodd} {string range $expect_out end-5 end}");
+        full.fine("yyyodd", "spawn; for {set i 0} {$i < 65} {incr i} {send x\\n}; expect {yyy} {}; set timeout 0; expect nothing {}; "
+            + "send q\\n; expect {yyyodd} {string range $expect_out end-5 end}");
         Talk line = new Talk();
         line.rule(0, "a*a", "fit", 0, 0);
         line.rule(0, "a*", "unfit", 0, 0);
