@@ -110,6 +110,9 @@ public final class EdgeCommandTest {
         talk.fine("", "lindex {a b c} end-" + HIGHEST).fine("", "lindex {a b c} " + LOWEST).fine("", "lindex {a b c} " + HIGHEST)
             .fine("", "lindex {a b c} 4294967296").fine("", "lindex {a b c} 4294967297").fine("", "lindex {a b c} end-4294967296")
             .fine("", "lindex {a b c} -4294967296");
+        talk.fails("not an integer: en", "lrange {a b c} en d").fails("not an integer: e", "lrange {a b c} e nd")
+            .fails("not an integer: end-", "lrange {a b c} end- 1")
+            .fails("not an integer: -", "lrange {a b c} - 1").fails("not an integer: 0x", "lrange {a b c} 0x 1").fine("b", "lrange {a b c} 1 1");
         for (String bad : new String[] {"", "x", "en", "End", "end-", "end+1", "end--1", "end-+1", "end- 1", "end -1", " end", "end ", "end1",
             "end-x", "end-9223372036854775808", "end-0x", "1-1", "e", "end-end"}) {
             talk.fails("not an integer: " + bad, "lindex {a b c} {" + bad + "}").fails("not an integer: " + bad, "string index abc {" + bad + "}");

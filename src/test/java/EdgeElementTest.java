@@ -5,6 +5,8 @@ public final class EdgeElementTest {
         bracedElements();
         quotedElements();
         otherElements();
+        escapesAtEnd();
+        wordsAside();
         behindClosers();
         backslashNewlines();
         unreadable();
@@ -57,6 +59,26 @@ public final class EdgeElementTest {
             .fine("<$a>", elements("$a")).fine("<#>", elements("#")).fine("<a b>", elements("a\\ b")).fine("<\t>", elements("\\t"));
         talk.fine("<{>", elements("\\{")).fine("<\">", elements("\\\"")).fine("<\\>", elements("\\")).fine("<a\\>", elements("a\\"))
             .fine("<\u00ff\0>", elements("\\377\\400")).fine("<A1><xg>", elements("\\x411 \\xg"));
+    }
+
+    private static void escapesAtEnd() {
+        Talk talk = Talk.about("backslashes as above: one or two hexadecimal digits, one to three octal digits (of the text alone, not "
+            + "of what lies behind it)");
+        talk.fine("\4", "lindex {\\x4} 0").fine("\4", "lindex {\\4} 0").fine("x", "lindex {\\x} 0").fine("\\", "lindex \\\\ 0")
+            .fine("\4", "catch {set x \\x4} 1; set x")
+            .fine("\4", "catch {set x \\4} 1; set x").fine("\\", "catch {set x [format %s \\\\]} 1; set x").fine("\4", "lindex \"a \\\\x4\" 1");
+    }
+
+    /** A list that is a word of join, with another word behind it that would go on with it. */
+    private static void wordsAside() {
+        Talk talk = Talk.about("or the end (what lies behind a list is not of it)");
+        String[][] lists = {{"a b", "c", "acb"}, {"a {b}", "c", "acb"}, {"a \"b\"", "c", "acb"}, {"a b\\", "\n", "a\nb\\"}, {"a b\\", "n", "anb\\"},
+            {"a b\\x4", "1", "a1b\4"}, {"a b\\4", "1", "a1b\4"}, {"a b\\x", "1", "a1bx"}, {"a b\\\n", " ", "a b "}, {"a b ", "c", "acb"}, {"", "c", ""}};
+        for (String[] list : lists) {
+            talk.fine(list[2], "join " + Talk.word(list[0]) + " " + Talk.word(list[1]));
+        }
+        talk.fails("bad list", "join \\{a \\}").fails("bad list", "join \"\\\"a\" \\\"").fails("bad list", "join \"{a\\\\\" \\}}")
+            .fails("bad list", "join \"\\\"a\\\\\" \\\"\\\"");
     }
 
     private static void behindClosers() {

@@ -22,6 +22,7 @@ public final class EdgeReadingTest {
         readWhole();
         firstProblem();
         textEnd();
+        wordsAside();
         depth();
         Talk.finish();
     }
@@ -256,6 +257,39 @@ public final class EdgeReadingTest {
             .fails("missing close-quote", "set a \"[b]");
         talk.fails("missing close-bracket", "set a [b $c(d)").fails("missing close-parenthesis", "set a $b([c]").fails("missing close-bracket", "[")
             .fails("missing close-quote", "\"").fails("missing close-brace", "{").fails("missing close-bracket", "set a [b; # c]");
+    }
+
+    /** A script that is a word of catch, with another word behind it that would go on with it. */
+    private static void ends(Talk talk, String due, String script, String behind) {
+        talk.fine(due, "set a 1; set ab 2; set a(b) 3; set x -; set c [catch " + Talk.word(script) + " " + Talk.word(behind) + "]; list $c $x");
+    }
+
+    private static void wordsAside() {
+        Talk talk = Talk.about("the end (of the script); at the text's end itself (what lies behind a text is not of it)");
+        ends(talk, "0 {$}", "set x $", "{a}");
+        ends(talk, "0 {$}", "set x $", "a");
+        ends(talk, "0 1", "set x $a", "b");
+        ends(talk, "0 1", "set x $a", "(b)");
+        ends(talk, "0 \\\\", "set x \\", "\n");
+        ends(talk, "0 \\\\", "set x \\", "n");
+        ends(talk, "0 \4", "set x \\x4", "1");
+        ends(talk, "0 \4", "set x \\4", "1");
+        ends(talk, "0 x", "set x \\x", "1");
+        ends(talk, "1 -", "set x \"b", "\"");
+        ends(talk, "1 -", "set x [set y 1", "]");
+        ends(talk, "1 -", "set x ${a", "}");
+        ends(talk, "1 -", "set x {b", "}");
+        ends(talk, "1 -", "set x $a(b", ")");
+        ends(talk, "0 b", "set x {b}", "c");
+        ends(talk, "0 b", "set x \"b\"", "c");
+        ends(talk, "0 b", "set x b", "c");
+        ends(talk, "0 b", "set x b ", "c");
+        ends(talk, "0 b", "set x b;", "c");
+        ends(talk, "0 b", "set x b\n", "c");
+        ends(talk, "0 b", "set x b;#", "\nerror");
+        ends(talk, "0 b", "set x b;# \\", "\nerror");
+        ends(talk, "0 -", "", "error");
+        ends(talk, "0 -", " ;", "error");
     }
 
     private static String nest(String open, int depth, String core, String close) {

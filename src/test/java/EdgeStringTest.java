@@ -6,6 +6,7 @@ public final class EdgeStringTest {
         comparisons();
         firsts();
         lasts();
+        wordsAside();
         cases();
         trims();
         repeats();
@@ -62,6 +63,13 @@ public final class EdgeStringTest {
             .fine("1", "string last ba abac 2").fine("0", "string last ba baba 2").fine("2", "string last ba baba 3");
         talk.fine("-1", "string last abcd abc").fails("not an integer: x", "string last a a x").fails("not an integer: x", "string last {} a x")
             .fine("2", "string last a aba end-0xffffffffffffffff");
+    }
+
+    /** Words of a command lie one behind another; what is looked for must not reach into the next one. */
+    private static void wordsAside() {
+        Talk talk = Talk.about("the first place where n stands (in x alone, not in the word behind it)");
+        talk.fine("-1", "string first b0 ab 0").fine("-1", "string last b5 ab 5").fine("-1", "string first ab0 ab 0").fine("1", "string first b ab 0")
+            .fine("ab", "string map {bab x} ab").fine("0", "string match a*ba ab").fine("0", "string equal ab abc");
     }
 
     private static void cases() {
@@ -191,6 +199,8 @@ public final class EdgeStringTest {
         unfit(talk, "?*", "");
         fit(talk, "*?", "a", "ab");
         unfit(talk, "*??", "a", "");
+        fit(talk, "*a+", "xa+", "a+");
+        unfit(talk, "*a+", "xa", "a+b");
     }
 
     private static void sets() {

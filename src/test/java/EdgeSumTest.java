@@ -8,6 +8,7 @@ public final class EdgeSumTest {
         empty();
         readWhole();
         depth();
+        wordsAside();
         depthMixed();
         orderOfOperators();
         fromLeft();
@@ -84,6 +85,23 @@ public final class EdgeSumTest {
         is(talk, "1", "(1) && ".repeat(50) + "1");
         is(talk, "-1", "-".repeat(501) + "1");
         is(talk, "9", "1 ? 9 : 0 + ((((((1))))))");
+    }
+
+    /** An expression that is a word of if, with a body behind it that would go on with it. */
+    private static void wordsAside() {
+        Talk talk = Talk.about("EXPRESSIONS are read whole (what lies behind one is not of it)");
+        String[][] bodies = {{"1", "2"}, {"1", "x"}, {"1", "+ 1"}, {"$a", "b"}, {"$a", "(b)"}, {"0x1", "f"}, {"{1}", "{"}, {"\"1\"", "\""},
+            {"(1)", ")"}, {"[set a]", "]"}, {"1 ", "2"}, {"1", "? 1 : 2"}, {"1", "\n"}, {"abs(1)", ")"}};
+        for (String[] body : bodies) {
+            talk.run("set a 1; set ab x; set a(b) x; if " + Talk.word(body[0]) + " " + Talk.word(body[1]));
+            Talk.check(body[0] + " with " + body[1], talk.out().startsWith("bad expression") || talk.out().startsWith("not an integer"), false);
+        }
+        String[][] bads = {{"1 +", "1"}, {"1 <", "= 1"}, {"1 |", "| 1"}, {"abs", "(1)"}, {"(1", ")"}, {"{1", "}"}, {"\"1", "\""}, {"[set a", "]"},
+            {"$a(b", ")"}, {"${a", "}"}, {"1 ? 2", ": 3"}, {"1 ? 2 :", "3"}, {"$", "a"}, {"$", "{a}"}, {"-", "1"}, {"", "1"},
+            {"1 =", "= 1"}, {"1 !", "= 1"}, {"1 e", "q 1"}, {"1 n", "e 1"}, {"ab", "s(1)"}, {"max(1,", "2)"}, {"0x", "1"}, {"1\\", "\n"}};
+        for (String[] bad : bads) {
+            talk.fails("bad expression: " + bad[0], "set a 1; if " + Talk.word(bad[0]) + " " + Talk.word(bad[1]));
+        }
     }
 
     private static void depthMixed() {
