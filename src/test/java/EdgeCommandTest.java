@@ -29,6 +29,7 @@ public final class EdgeCommandTest {
         procArguments();
         procErrors();
         calls();
+        manyCalls();
         callCodes();
         returns();
         returnCodes();
@@ -316,6 +317,14 @@ public final class EdgeCommandTest {
             .fails("no such variable: x", "set x 1; proc f {} {set x}; f").fine("0", "proc f {} {set y 1}; f; info exists y");
         talk.refuses("no such variable: ", "proc f {a {{} 1}} {}; f 1", "0 0", "list [info level] [info exists a]")
             .fine("1 2", "proc f n {if {$n} {f 0}; set n}; list [f 1] 2").fine("", "proc f {} {}; f").fine("5", "proc f {} {set x 5}; set y 6; f");
+    }
+
+    private static void manyCalls() {
+        Talk talk = Talk.about("VARIABLES lie in FRAMES, one of each call of a procedure and one for the run");
+        talk.fine("0", "proc f {} {set e [info exists e]}; f; f")
+            .fine("0 1", "proc f a {set b $a}; for {set i 0} {$i < 200} {incr i} {f $i}; list [info exists b] [info exists i]")
+            .fine("19900 0", "proc f a {set b $a}; set s 0; for {set i 0} {$i < 200} {incr i} {incr s [f $i]}; list $s [info level]")
+            .fine("1", "proc f {} {error boo}; for {set i 0} {$i < 200} {incr i} {catch f}; proc g {} {info level}; g");
     }
 
     private static void callCodes() {

@@ -16,6 +16,7 @@ public final class EdgeFaceTest {
         ruleFull();
         ruleTape();
         clearAll();
+        clearedTexts();
         fuelOutside();
         fuelEdges();
         runTape();
@@ -225,6 +226,15 @@ public final class EdgeFaceTest {
         for (int i = 0; i < 64; i++) {
             Talk.check("full again", talk.rule(0, "", "", 0, 0), i);
         }
+    }
+
+    private static void clearedTexts() {
+        Talk talk = Talk.about("All rules go (and their texts with them).");
+        talk.rule(0, "abc", "old answer", 9, 9);
+        talk.clear();
+        Talk.check("rule", talk.rule(0, "x", "new", 0, 0), 0);
+        talk.tells("\1abcx\nabc\nx\n\2new", "spawn; send abcx\\nabc\\nx\\n; expect @ {}")
+            .tells("\1x\nx\n\2new\2new", "spawn; send x\\nx\\n; expect @ {}");
     }
 
     private static void fuelOutside() {

@@ -134,6 +134,8 @@ public final class EdgeReadingTest {
         Talk talk = Talk.about("$NAME (A .. Z, a .. z, digits, _ ; one or more, else $ is itself)");
         talk.fine("$", "set x $").fine("$", "set x \"$\"").fine("a$", "set x a$").fine("$$", "set x $$").fine("$1", "set a 1; set x $$a")
             .fine("$ $", "set x \"$ $\"").fine("$;", "set x \"$;\"").fine("$]", "set x \"$]\"").fine("$(a)", "set x $(a)");
+        talk.fine("1{b", "set n 1; set x $n{b").fine("1$", "set n 1; set x $n$").fine("1\"", "set n 1; set x $n\"")
+            .fine("1\n", "set n 1; set x $n\\n");
         for (int c = 1; c < 256; c++) {
             boolean named = c >= '0' && c <= '9' || c >= 'A' && c <= 'Z' || c >= 'a' && c <= 'z' || c == '_';
             if (c != '(' && c != '[' && c != '\\' && c != '"' && c != '$' && c != '{') {

@@ -47,7 +47,9 @@ public final class EdgeSumTest {
 
     private static void empty() {
         Talk talk = Talk.about("one that can't be, an empty one, too: bad expression: TEXT");
-        bad(talk, "", " ", "\n", "\t\\\n ", "()", "1 +", "+", "1 2", "(1", "1)", "(", ")", "1 ?", "1 ? 2", "1 ? 2 :", "1 ? : 2", "? 1 : 2", "1 : 2",
+        bad(talk, "", " ", "\n", "\t\\\n ", "()", "1 +", "+", "1 2", "(1", "1)", "(", ")", "1 ?", "1 ? 2", "1 ? 2 :", "1 ? : 2", "1 ? 2 ; 3",
+            "1 ? 2 ) 3", "1 ? 2 , 3", "(1,", "(1]", "(1;", "(1 2)", "abs(1,", "abs(1 2)", "min(1;2)", "min(1)2)", "max(1:2)", "max(1,2;", "? 1 : 2",
+            "1 : 2",
             "1,2", ",", "&&", "1 &&", "&& 1", "1 ||| 1", "1 = 1", "1 === 1", "1 <> 1", "1 ! 1", "1 ~ 1", "a", "abc", "true", ".5", "1.5", ";", "1;",
             "#", "1 # a", "]", "}", "'a'");
         talk.fails("bad expression: ", "if {} {}").fails("bad expression: ", "while {} {}").fails("bad expression: ", "for {} {} {} {}")
