@@ -394,7 +394,8 @@ public final class EdgeCommandTest {
             .fine("1", "set b 1; upvar 0 b a; upvar 0 a b; set b")
             .refuses("variable is there: b", "set a 1; set b 2; upvar 0 a b", "1 2", "list $a $b")
             .fine("1 2 2", "set a 1; set c 2; upvar 0 a b; set d $b; upvar 0 c b; list $a $c $b");
-        talk.fine("1 2", "proc f {} {upvar a x b y; list $x $y}; set a 1; set b 2; f")
+        talk.fine("0 0", "proc f {} {upvar a x b y; list [info exists a] [info exists b]}; set x 1; set b 1; f")
+            .fine("1 2", "proc f {} {upvar a x b y; list $x $y}; set a 1; set b 2; f")
             .fails("variable is there: y", "proc f {} {set y 1; upvar a x b y}; f")
             .fine("1 1", "proc f {} {set y 1; catch {upvar a x b y}; list $x $y}; set a 1; f").fine("", "set a 1; unset a; upvar 0 b a")
             .fine("0", "upvar 0 a a; info exists a");

@@ -284,11 +284,14 @@ public final class EdgePeerTest {
         talk.fine("1004 ab", five + "send s\\n; expect STOP {list [string length $expect_out] [string range $expect_out 0 1]}")
             
                 
-                    .fine("1024 ab", five + "send 24\\n; expect @ {}; expect [string repeat y 24] {list [string length $expect_out] [string range $expect_out 0 1]}");
+                    
+                        .fine("1024 ab", five + "send 24\\n; expect @ {}; expect [string repeat y 24] {list [string length $expect_out] [string range $expect_out 0 1]}");
         talk.fine("1024 bc", five + "send 24\\n1\\n; expect @ {}; expect ! {list [string length $expect_out] [string range $expect_out 0 1]}")
             
                 
-                    .fine("1024 ab", five + "send x\\n24\\n; expect @ {}; expect [string repeat y 24] {list [string length $expect_out] [string range $expect_out 0 1]}")
+                    
+                        .fine("1024 ab",
+                            five + "send x\\n24\\n; expect @ {}; expect [string repeat y 24] {list [string length $expect_out] [string range $expect_out 0 1]}")
             .fine("1024 ef", five + "send x\\nx\\ns\\n; expect @ {}; expect STOP {list [string length $expect_out] [string range $expect_out 0 1]}");
         talk.fine("200", five + "send x\\nx\\n; expect @ {}; expect [string repeat ? 824] {}; expect " + answer + " {string length $expect_out}");
     }

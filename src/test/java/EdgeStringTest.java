@@ -348,6 +348,9 @@ public final class EdgeStringTest {
         talk.fails("bad format: %", "format %").fails("bad format: a%", "format a%").fails("bad format: %-", "format %-")
             .fails("bad format: %5", "format %5").fails("bad format: %05", "format %05 1").fails("bad format: %5-d", "format %5-d 1")
             .fails("bad format: %.1d", "format %.1d 1").fails("bad format: %ld", "format %ld 1").fails("bad format: %\0", "format %\0");
+        talk.fails("bad format: %", "format % d").fails("bad format: %5", "format %5 d").fails("bad format: %-", "format %- d")
+            .fails("bad format: %102", "format %102 5")
+            .fails("bad format: %5:d", "format %5:d 1").fails("bad format: %5/d", "format %5/d 1");
         talk.fails("not enough words: format", "format %d").fails("not enough words: format", "format %s")
             .fails("not enough words: format", "format %s%s a").fails("not enough words: format", "format %%%c").fine("a", "format %s a b c")
             .fine("", "format {}").fine("", "format {} a").fails("wrong number of words: format", "format");

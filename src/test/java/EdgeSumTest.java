@@ -4,6 +4,11 @@ public final class EdgeSumTest {
     private static final String LOWEST = "(-9223372036854775807-1)";
     private static final String LOWEST_TEXT = "-9223372036854775808";
 
+    /** The operators between operands, the weakest first. */
+    private static final String[][] STRENGTHS = {
+        {"||"}, {"&&"}, {"|"}, {"^"}, {"&"}, {"==", "!=", "eq", "ne"}, {"<", "<=", ">", ">="}, {"<<", ">>"}, {"+", "-"}, {"*", "/", "%"}
+    };
+
     public static void main(String[] args) {
         empty();
         readWhole();
@@ -11,6 +16,7 @@ public final class EdgeSumTest {
         wordsAside();
         depthMixed();
         orderOfOperators();
+        pairsOfOperators();
         fromLeft();
         numbers();
         quotesAndBraces();
@@ -131,6 +137,83 @@ public final class EdgeSumTest {
             {"0", "1 eq 2 < 3 == 0"}, {"2", "7-4-1"}, {"1", "8/4/2"}, {"4", "2*7%3*2"}, {"15", "1+2<<1|1&3|9"}};
         for (String[] sum : sums) {
             is(talk, sum[0], sum[1]);
+        }
+    }
+
+    private static int strength(String operator) {
+        for (int i = 0; i < STRENGTHS.length; i++) {
+            for (String other : STRENGTHS[i]) {
+                if (other.equals(operator)) {
+                    return i;
+                }
+            }
+        }
+        throw new IllegalArgumentException(operator);
+    }
+
+    private static long truth(boolean is) {
+        return is ? 1 : 0;
+    }
+
+    private static long apply(String operator, long a, long b) {
+        switch (operator) {
+            case "||": return truth(a != 0 || b != 0);
+            case "&&": return truth(a != 0 && b != 0);
+            case "|": return a | b;
+            case "^": return a ^ b;
+            case "&": return a & b;
+            case "==": case "eq": return truth(a == b);
+            case "!=": case "ne": return truth(a != b);
+            case "<": return truth(a < b);
+            case "<=": return truth(a <= b);
+            case ">": return truth(a > b);
+            case ">=": return truth(a >= b);
+            case "<<": return a << b;
+            case ">>": return a >> b;
+            case "+": return a + b;
+            case "-": return a - b;
+            case "*": return a * b;
+            case "/": return Math.floorDiv(a, b);
+            default: return Math.floorMod(a, b);
+        }
+    }
+
+    /** Whether an operator can be applied, and its result can be an operand of any other. */
+    private static boolean isPlain(String operator, long a, long b) {
+        boolean divides = operator.equals("/") || operator.equals("%");
+        boolean shifts = operator.equals("<<") || operator.equals(">>");
+        return !(divides && b == 0) && !(shifts && (b < 0 || b > 63));
+    }
+
+    /** Looks at two operators between numbers of which it matters which operator comes first. */
+    private static void lookAtPair(Talk talk, String first, String second) {
+        boolean fromLeft = strength(first) >= strength(second);
+        int looked = 0;
+        for (int i = 0; i < 1000 && looked < 2; i++) {
+            long a = i % 10;
+            long b = i / 10 % 10;
+            long c = i / 100;
+            if (isPlain(first, a, b) && isPlain(second, b, c) && isPlain(second, apply(first, a, b), c) && isPlain(first, a, apply(second, b, c))) {
+                long left = apply(second, apply(first, a, b), c);
+                long right = apply(first, a, apply(second, b, c));
+                if (left != right) {
+                    looked++;
+                    is(talk, Long.toString(fromLeft ? left : right), a + " " + first + " " + b + " " + second + " " + c);
+                }
+            }
+        }
+    }
+
+    private static void pairsOfOperators() {
+        Talk talk = Talk.about("From the weakest on: || ; && ; | ; ^ ; & ; == != eq ne ; < <= > >= ; << >> ; + - ; * / % (each of them with each)");
+        for (String[] firsts : STRENGTHS) {
+            for (String first : firsts) {
+                for (String[] seconds : STRENGTHS) {
+                    for (String second : seconds) {
+                        lookAtPair(talk, first, second);
+                    }
+                }
+            }
         }
     }
 
