@@ -258,6 +258,7 @@ public final class EdgeCommandTest {
         talk.fine("1", "switch a a {set x 1} a {set x 2}").fine("2", "switch a b {set x 1} a {set x 2}").fine("", "switch a b {set x 1}")
             .fine("3", "switch a b {set x 1} default {set x 3}").fine("", "switch a default {set x 3} b {set x 1}")
             .fine("3", "switch default default {set x 3} b {set x 1}");
+        talk.fine("1", "switch b a b b {set x 1}").fine("1", "switch -glob b {a b* b {set x 1}}").fine("", "switch b a b c d");
         talk.fine("2", "switch a a - b {set x 2}").fine("3", "switch a a - b - c {set x 3}").fine("3", "switch a a - default {set x 3}")
             .fails("no body: a", "switch a a -").fails("no body: a", "switch a a - b -").fails("no body: b", "switch b a - b -")
             .fails("no body: default", "switch c a - default -").fine("", "switch c a - b -").fails("no body: a*", "switch -glob ab a* -");
@@ -422,7 +423,8 @@ public final class EdgeCommandTest {
             .fine("1", "proc f {} {uplevel {set x 1}}; f; set x").fine("1", "proc f {} {uplevel 1 set x 1}; f; set x");
         talk.fails("no such command: 1", "proc f {} {uplevel 1}; f").fine("", "proc f {} {uplevel #0}; f")
             .fails("no such command: -1", "proc f {} {uplevel -1 x}; f").fails("no such command: +1", "proc f {} {uplevel +1 x}; f")
-            .fails("no such command: 0x1", "proc f {} {uplevel 0x1 x}; f").fails("no such command: 1a", "proc f {} {uplevel 1a x}; f");
+            .fails("no such command: 0x1", "proc f {} {uplevel 0x1 x}; f").fails("no such command: 1a", "proc f {} {uplevel 1a x}; f")
+            .fails("no such command: 1:", "proc f {} {uplevel 1: x}; f").fails("no such command: 1/", "proc f {} {uplevel 1/ x}; f");
         talk.fine("", "proc f {} {uplevel # x}; f").fails("no such level: 2", "proc f {} {uplevel 2 x}; f")
             .fails("no such level: #2", "proc f {} {uplevel #2 x}; f").fails("no such level: 99999999999999999999", "uplevel 99999999999999999999 x")
             .fails("no such level: #99999999999999999999", "uplevel #99999999999999999999 x").fine("1", "proc f {} {uplevel 01 {set x 1}}; f; set x");

@@ -262,6 +262,7 @@ public final class EdgePeerTest {
             .fine("a", "spawn; expect timeout {set r a} @ {set r c} timeout {set r b}")
             .fine("c", "spawn; send go\\n; expect timeout {set r b} {[t]imeout} {set r c}");
         talk.fine("a", "spawn; expect @ {} \"time[format out]\" {set r a}").fine("", "spawn; expect Timeout {set r a}");
+        talk.fine("1", "spawn; expect @ timeout timeout {set x 1}").fine("1", "proc timeout {} {set x 1}; spawn; send go\\n; expect t timeout @ {}");
     }
 
     private static void oddWords() {
@@ -285,7 +286,9 @@ public final class EdgePeerTest {
             
                 
                     
-                        .fine("1024 ab", five + "send 24\\n; expect @ {}; expect [string repeat y 24] {list [string length $expect_out] [string range $expect_out 0 1]}");
+                        
+                            .fine("1024 ab",
+                                five + "send 24\\n; expect @ {}; expect [string repeat y 24] {list [string length $expect_out] [string range $expect_out 0 1]}");
         talk.fine("1024 bc", five + "send 24\\n1\\n; expect @ {}; expect ! {list [string length $expect_out] [string range $expect_out 0 1]}")
             
                 
