@@ -14,6 +14,11 @@ public final class RoomTest {
             + "}; catch {expr $e} m; set m";
         String deepCommands = "set a [string repeat q 1024]; set b [string repeat q 500]; proc f {} {global a b; "
             + "list $a $b$b[".repeat(8) + "f" + "]".repeat(8) + "}; catch f m; set m";
+        String longSum = "set a [string repeat 0 1023]1; expr {" + "$a|$a+$a*(".repeat(7) + "$a" + ")".repeat(7) + "}";
+        String longWords = "proc f n {global x bad; if {$n > 0 && ![string equal $x [lindex [list $x [f [expr {$n - 1}]]] 0]]} {incr bad}; set n}; "
+            + "set x [string repeat a 1000]; set bad 0; f 13; set bad";
+        measure(longSum, 0, "15");
+        measure(longWords, 0, "0");
         measure("while 1 {incr i}", 5, "");
         measure("proc f n {if {$n < 2} {return 1}; expr {$n * [f [expr {$n - 1}]]}}; while 1 {f 8}", 5, "");
         measure("set l {}; while 1 {lappend l $l; lsort $l; if {[llength $l] > 5} {set l {}}}", 5, "");
@@ -31,8 +36,9 @@ public final class RoomTest {
         long made = allocated() - before;
         for (int i = 0; i < 15; i++) {
             made += run(talk, script, code);
+            // The first run finds its rows small, the later ones find them grown.
+            Talk.check("run " + i + " of " + script, talk.out(), result);
         }
-        Talk.check(script, talk.out(), result);
         if (made > BYTES) {
             Talk.check("bytes made by 15 runs of " + script, made, "at most " + BYTES);
         }
