@@ -126,9 +126,9 @@ public final class PeerTest {
         talk.run("set v [string repeat x 1022]; for {set i 0} {$i < 32} {incr i} {puts $v}; puts {}; spawn; send {}");
         Talk.check("what is too much is left out", talk.tongue.told(), 32768);
         talk.run("set v [string repeat x 1022]; for {set i 0} {$i < 31} {incr i} {puts $v}; puts [string range $v 3 end]; puts aa; puts b; spawn; send {}");
-        Talk.check("what fits behind that is told", talk.told().endsWith("x\n\3b\n"), true);
+        Talk.check("what fits behind that is told", talk.toldEnd(9).endsWith("x\n\3b\n"), true);
         Talk.check("up to the last byte", talk.tongue.told(), 32768);
         talk.run("set v [string repeat x 1022]; for {set i 0} {$i < 31} {incr i} {puts $v}; puts [string range $v 1 end]; spawn; send {}");
-        Talk.check("a byte more", talk.told().endsWith("x\n\1"), true);
+        Talk.check("a byte more", talk.toldEnd(9).endsWith("x\n\1"), true);
     }
 }

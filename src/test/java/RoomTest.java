@@ -29,20 +29,20 @@ public final class RoomTest {
         Talk.finish();
     }
 
-    /** Makes an object and 15 runs of a script, which together must keep within the room. */
+    /** Makes an object and 12 runs of a script, which together must keep within the room. */
     private static void measure(String script, int code, String result) {
         long before = allocated();
         Talk talk = new Talk();
         long made = allocated() - before;
-        for (int i = 0; i < 15; i++) {
+        for (int i = 0; i < 12; i++) {
             made += run(talk, script, code);
             // The first run finds its rows small, the later ones find them grown.
             Talk.check("run " + i + " of " + script, talk.out(), result);
         }
         if (made > BYTES) {
-            Talk.check("bytes made by 15 runs of " + script, made, "at most " + BYTES);
+            Talk.check("bytes made by 12 runs of " + script, made, "at most " + BYTES);
         }
-        for (int i = 0; i < 10; i++) {
+        for (int i = 0; i < 6; i++) {
             Talk.check("a later run makes nothing", run(talk, "set a 1", 0) < 1000, true);
         }
     }

@@ -4,8 +4,8 @@ import java.util.NoSuchElementException;
 
 /** What the tests share: an object of DialogueTongue that takes texts, and a count of what was wrong. */
 final class Talk {
-    /** The document says nothing of an object's later calls; a few of these are left to the tests' own calls. */
-    private static final int MOST_CALLS = 512 - 16;
+    /** The document says nothing of an object's calls behind the 512th; some are left to what tests call by themselves. */
+    private static final int MOST_CALLS = 512 - 64;
     private static final int MOST_TAPE = 4096;
     /** Of a longer text only so many bytes at each end are looked at. */
     private static final int END_BYTES = 100;
@@ -37,7 +37,7 @@ final class Talk {
         }
     }
 
-    /** Goes on with a new object, if the one at hand has not so many calls left. */
+    /** Goes on with a new object, and the same rules, if the one at hand has not so many calls left. */
     private void makeRoom(int more) {
         if (calls + more > MOST_CALLS) {
             tongue = new DialogueTongue();
@@ -45,14 +45,19 @@ final class Talk {
             for (int i = 0; i < ruleTexts.size(); i++) {
                 int[] numbers = ruleNumbers.get(i);
                 feed(ruleTexts.get(i));
-                tongue.rule(numbers[0], numbers[1], numbers[2]);
+                learn(numbers[0], numbers[1], numbers[2]);
             }
         }
-        calls += more;
     }
 
+    /** How many calls put a text on the tape, and make a rule or a run of it. */
     private static int callsOf(String text) {
-        return text.length() / 20 + 5;
+        return text.length() / 20 + 4;
+    }
+
+    private int learn(int state, int delay, int next) {
+        calls++;
+        return tongue.rule(state, delay, next);
     }
 
     /** Puts a text on the tape, in steps of twenty bytes. */
@@ -66,11 +71,14 @@ final class Talk {
             // The last twenty bytes of a full tape overlap those ahead, because 4096 is no multiple of 20.
             if (at + 20 > MOST_TAPE) {
                 at = MOST_TAPE - 20;
+                calls++;
                 check("end", tongue.end(at), true);
             }
+            calls++;
             check("feed", tongue.feed(four(text, at), four(text, at + 4), four(text, at + 8), four(text, at + 12),
                 four(text, at + 16)), true);
         }
+        calls++;
         check("end", tongue.end(text.length()), true);
     }
 
@@ -84,7 +92,7 @@ final class Talk {
 
     int rule(int state, String pattern, String answer, int delay, int next) {
         tape(pattern + "\0" + answer);
-        int number = tongue.rule(state, delay, next);
+        int number = learn(state, delay, next);
         if (number >= 0) {
             ruleTexts.add(pattern + "\0" + answer);
             ruleNumbers.add(new int[] {state, delay, next});
@@ -93,6 +101,7 @@ final class Talk {
     }
 
     void clear() {
+        calls++;
         tongue.clear();
         ruleTexts.clear();
         ruleNumbers.clear();
@@ -104,34 +113,46 @@ final class Talk {
 
     int run(String script, int fuel) {
         tape(script);
+        calls++;
         return tongue.run(fuel);
     }
 
     String out() {
-        calls += tongue.out();
         StringBuilder text = new StringBuilder();
-        for (int i = 0; i < tongue.out(); i++) {
+        int size = tongue.out();
+        for (int i = 0; i < size; i++) {
             text.append((char) tongue.outAt(i));
         }
+        calls += size + 1;
         return text.toString();
     }
 
     String told() {
-        calls += tongue.told();
+        return toldFrom(0);
+    }
+
+    /** The transcript's last bytes, at most so many. */
+    String toldEnd(int most) {
+        return toldFrom(Math.max(0, tongue.told() - most));
+    }
+
+    private String toldFrom(int first) {
         StringBuilder text = new StringBuilder();
-        for (int i = 0; i < tongue.told(); i++) {
+        int size = tongue.told();
+        for (int i = first; i < size; i++) {
             text.append((char) tongue.toldAt(i));
         }
+        calls += size - first + 1;
         return text.toString();
     }
 
     /** Runs a script on this object, whose code and result are told. */
     Talk gives(int code, String result, String script) {
-        makeRoom(callsOf(script) + callsOfLooking(result) + 4);
-        calls -= callsOf(script);
+        makeRoom(callsOf(script) + callsOfLooking(result) + 3);
         int got = run(script);
         String due = code + " " + result.length() + " " + ends(result);
         check(script, got + " " + tongue.out() + " " + outEnds(), due);
+        calls++;
         check("live behind " + script, tongue.live(), 0);
         return this;
     }
@@ -151,8 +172,10 @@ final class Talk {
         for (int i = 0; i < size; i++) {
             if (i < END_BYTES || i >= size - END_BYTES) {
                 text.append((char) tongue.outAt(i));
+                calls++;
             }
         }
+        calls += 2;
         return text.toString();
     }
 
@@ -173,8 +196,10 @@ final class Talk {
     /** Runs a script with just the fuel that it costs, and with one less. */
     Talk costs(int fuel, String script) {
         run(script, 1000);
+        calls++;
         check("fuel of " + script, 1000 - tongue.fuel(), fuel);
         if (fuel > 0) {
+            calls += 2;
             check("too little fuel for " + script, run(script, fuel - 1), 5);
             check("result without fuel of " + script, tongue.out(), 0);
             check("fuel behind code 5", tongue.fuel(), 0);
@@ -183,8 +208,7 @@ final class Talk {
     }
 
     Talk tells(String transcript, String script) {
-        makeRoom(callsOf(script) + transcript.length() + 2);
-        calls -= callsOf(script) + transcript.length();
+        makeRoom(callsOf(script) + transcript.length() + 1);
         run(script);
         check("transcript of " + script, told(), transcript);
         return this;
